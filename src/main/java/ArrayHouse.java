@@ -205,6 +205,8 @@ public final class ArrayHouse {
         int first = text.count;
         int fault = text.scan(from);
         if (fault >= 0) return -10 - (fault - from);
+        reader.place = 0;
+        places.deepest = 0;
         statements(first, text.count);
         return state.event;
     }
@@ -234,22 +236,21 @@ public final class ArrayHouse {
         }
     }
 
+    /** Does the STATEMENTS of a text; which ones are SHOWN is told by how they end. */
     private void statements(int first, int last) {
         int lo = first;
         for (int number = 0; lo <= last && state.event == 0; number++) {
             int hi = text.statementEnd(lo, last);
-            if (lo < hi) showStatement(lo, hi);
-            if (state.event != 0) eventAt = number;
+            int value = lo < hi && state.spend(1) ? reader.phrase(lo, hi, 0) : 0;
+            if (value != 0 && !heap.isValue(value)) state.raise(SYNTAX);
+            if (state.event != 0) {
+                eventAt = number;
+            } else if (value != 0 && !reader.ended) {
+                screen.write(value);
+                screen.add('\n');
+            }
             lo = hi + 1;
         }
-    }
-
-    private void showStatement(int lo, int hi) {
-        if (!state.spend(1)) return;
-        int value = reader.statement(lo, hi);
-        if (value == 0 || reader.ended) return;
-        screen.write(value);
-        screen.add('\n');
     }
 
     public int at() {
@@ -520,7 +521,10 @@ public final class ArrayHouse {
         }
 
         private int grab(int n) {
-            if (n < 0 || n > WORDS_LIMIT - top) return state.raise(LIMIT);
+            if (n < 0 || n > WORDS_LIMIT - top) {
+                if (state.event == 0) state.event = LIMIT;
+                return 0;
+            }
             int length = words.length;
             if (top + n > length) words = Arrays.copyOf(words, Math.max(top + n, Math.min(WORDS_LIMIT, 2 * length)));
             int h = top;
@@ -529,38 +533,38 @@ public final class ArrayHouse {
         }
 
         private int rank(int v) {
-            return Math.max(0, look(v));
+            return peek(words, v);
         }
 
         private int count(int v) {
-            return look(v + COUNT);
+            return peek(words, v + COUNT);
         }
 
         private int size(int v) {
-            return look(v + SIZE);
+            return peek(words, v + SIZE);
         }
 
         private int depth(int v) {
-            return look(v + DEPTH);
+            return peek(words, v + DEPTH);
         }
 
         private int wide(int v, int k) {
-            return k >= 0 && k < look(v) ? look(v + WIDE + k) : 1;
+            return k >= 0 && k < peek(words, v) ? peek(words, v + WIDE + k) : 1;
         }
 
         private int num(int v, int i) {
-            return look(v + WIDE + rank(v) + 2 * i);
+            return peek(words, v + WIDE + peek(words, v) + 2 * i);
         }
 
         private int den(int v, int i) {
-            return look(v + WIDE + rank(v) + 2 * i + 1);
+            return peek(words, v + WIDE + peek(words, v) + 2 * i + 1);
         }
 
         private void putItem(int v, int i, int n, int d) {
             if (v < FIRST || i < 0) return;
-            int p = v + WIDE + rank(v) + 2 * i;
-            put(p, n);
-            put(p + 1, d);
+            int p = v + WIDE + peek(words, v) + 2 * i;
+            poke(words, p, n);
+            poke(words, p + 1, d);
         }
 
         private void copyItem(int from, int i, int to, int j) {
@@ -621,8 +625,9 @@ public final class ArrayHouse {
         }
 
         private int vector(int n) {
+            if (n < 0 || n > MOST) return state.raise(LIMIT);
             shape[0] = n;
-            return make(1);
+            return lay(1, n);
         }
 
         /** A value of RANK 0 that needs no counting: of a NUMBER or a SIGN. */
@@ -677,37 +682,33 @@ public final class ArrayHouse {
         /** Likewise; if it is EMPTY its FILL is that of w. */
         private int sealWith(int v, int w) {
             if (v != 0 && count(v) == 0) {
-                findFill(w);
+                findFill(w, 0);
                 putItem(v, 0, fillN, fillD);
             }
             return seal(v);
         }
 
-        private void findFill(int v) {
-            if (count(v) > 0) {
-                findBlank(num(v, 0), den(v, 0));
-                return;
-            }
-            fillN = num(v, 0);
-            fillD = den(v, 0);
-        }
-
-        /** The FILL of an item, into fillN and fillD. */
-        private void findBlank(int n, int d) {
-            fillN = d == BOX ? blanked(n) : d == SIGN ? ' ' : 0;
+        /** The FILL of item i, of an EMPTY value its own, into fillN and fillD; it goes as deep as the DEPTH. */
+        private void findFill(int v, int i) {
+            int n = num(v, i);
+            int d = den(v, i);
+            if (count(v) > 0 && d == BOX) n = blanked(n);
+            if (count(v) > 0 && d != BOX) n = d == SIGN ? ' ' : 0;
+            fillN = n;
             fillD = d > 0 ? 1 : d;
         }
 
-        /** The value of FILLS; it goes as deep as the DEPTH of v. */
+        /** A copy of a value, its items FILLS; an EMPTY one itself. */
         private int blanked(int v) {
             if (count(v) == 0) return v;
-            int r = like(v);
+            int length = WIDE + rank(v) + 2 * count(v);
+            int r = grab(length);
+            if (r == 0) return 0;
+            for (int k = 0; k < length; k++) put(r + k, look(v + k));
             for (int i = 0; i < count(v); i++) {
-                findBlank(num(v, i), den(v, i));
+                findFill(v, i);
                 putItem(r, i, fillN, fillD);
             }
-            put(r + SIZE, size(v));
-            put(r + DEPTH, depth(v));
             return r;
         }
 
@@ -880,7 +881,8 @@ public final class ArrayHouse {
         }
 
         private int field(int token, int which) {
-            return token < 0 || token >= count ? 0 : peek(tokens, token * STRIDE + which);
+            int p = token * STRIDE + which;
+            return token < 0 || token >= count || p >= tokens.length ? 0 : tokens[p];
         }
 
         private void putField(int token, int which, int x) {
@@ -1139,7 +1141,7 @@ public final class ArrayHouse {
         private int slotIn(int place, int a, int b) {
             int first = firstSlot(place);
             for (int s = first; s < first + peek(used, place); s++) {
-                if (meansAt(s) != 0 && peek(nameA, s) == a && peek(nameB, s) == b) return s;
+                if (peek(means, s) != 0 && peek(nameA, s) == a && peek(nameB, s) == b) return s;
             }
             return NONE;
         }
@@ -1311,7 +1313,7 @@ public final class ArrayHouse {
                     heap.putItem(r, i, inside, BOX);
                     size += heap.size(inside);
                 } else {
-                    if (!pair(code, heap.num(a, ia), ad, heap.num(w, iw), wd)) return 0;
+                    if (!two(code, heap.num(a, ia), ad, heap.num(w, iw), wd)) return 0;
                     heap.putItem(r, i, n, d);
                 }
                 if (++size > MOST) return state.raise(LIMIT);
@@ -1320,7 +1322,7 @@ public final class ArrayHouse {
         }
 
         private boolean fail(int event) {
-            state.raise(event);
+            if (state.event == 0) state.event = event;
             return false;
         }
 
@@ -1377,20 +1379,16 @@ public final class ArrayHouse {
             return settle(x, 1);
         }
 
-        private boolean isBit(int x, int y) {
+        private boolean isBit(long x, long y) {
             return y == 1 && (x == 0 || x == 1);
-        }
-
-        private boolean pair(int code, int an, int ad, int wn, int wd) {
-            boolean same = an == wn && ad == wd;
-            if (code == EQUAL) return whole(same ? 1 : 0);
-            if (code == DIFFER) return whole(same ? 0 : 1);
-            if (ad == SIGN || wd == SIGN) return fail(DOMAIN);
-            return two(code, an, ad, wn, wd);
         }
 
         /** All products here are at most 4e18, sums of two 8e18: a long holds them. */
         private boolean two(int code, long an, long ad, long wn, long wd) {
+            boolean same = an == wn && ad == wd;
+            if (code == EQUAL) return whole(same ? 1 : 0);
+            if (code == DIFFER) return whole(same ? 0 : 1);
+            if (ad < 1 || wd < 1) return fail(DOMAIN);
             int order = Long.compare(an * wd, wn * ad);
             switch (code) {
                 case PLUS: return settle(an * wd + wn * ad, ad * wd);
@@ -1405,21 +1403,15 @@ public final class ArrayHouse {
                 case LESS_EQUAL: return whole(order <= 0 ? 1 : 0);
                 case MORE: return whole(order > 0 ? 1 : 0);
                 case MORE_EQUAL: return whole(order >= 0 ? 1 : 0);
+                case BANG: return choices(an, ad, wn, wd);
+                case AND: return isBit(an, ad) && isBit(wn, wd) ? whole((int) (an & wn)) : fail(DOMAIN);
+                case OR: return isBit(an, ad) && isBit(wn, wd) ? whole((int) (an | wn)) : fail(DOMAIN);
                 default: break;
             }
             if (ad != 1 || wd != 1) return fail(DOMAIN);
-            return wholes(code, (int) an, (int) wn);
-        }
-
-        private boolean wholes(int code, int a, int w) {
-            switch (code) {
-                case BANG: return a < 0 || w < 0 ? fail(DOMAIN) : choices(a, w);
-                case AND: return isBit(a, 1) && isBit(w, 1) ? whole(a & w) : fail(DOMAIN);
-                case OR: return isBit(a, 1) && isBit(w, 1) ? whole(a | w) : fail(DOMAIN);
-                case GCD: return settle(gcd(a, w), 1);
-                case LCM: return a == 0 || w == 0 ? whole(0) : settle(Math.abs((long) a * w), gcd(a, w));
-                default: return fail(SYNTAX);
-            }
+            long g = gcd(an, wn);
+            if (code == GCD) return settle(g, 1);
+            return g == 0 || an == 0 || wn == 0 ? whole(0) : settle(Math.abs(an * wn), g);
         }
 
         private boolean divide(long an, long ad, long wn, long wd) {
@@ -1451,7 +1443,8 @@ public final class ArrayHouse {
         }
 
         /** Each product is a number of choices, too: those only grow, and soon pass the bound. */
-        private boolean choices(int a, int w) {
+        private boolean choices(long a, long ad, long w, long wd) {
+            if (ad != 1 || wd != 1 || a < 0 || w < 0) return fail(DOMAIN);
             if (a > w) return whole(0);
             long times = Math.min(a, w - a);
             long x = 1;
@@ -1476,37 +1469,6 @@ public final class ArrayHouse {
             this.heap = heap;
         }
 
-        private int alone(int code, int axis, int w) {
-            switch (code) {
-                case RHO: return extents(w);
-                case COMMA: return heap.slice(w, 0, heap.count(w), 1);
-                case TALLY: return heap.scalar(heap.wide(w, 0), 1);
-                case NESTING: return heap.scalar(heap.depth(w), 1);
-                case HEAD: return heap.opened(w, 0);
-                case ENC: return heap.enclosed(w);
-                case MIX: return mix(w);
-                case SPLIT: return split(w);
-                case ENL: return enlist(w);
-                case REV: return reverse(axis, w);
-                case TR: return transpose(w);
-                default: return state.raise(SYNTAX);
-            }
-        }
-
-        private int beside(int code, int axis, int a, int w) {
-            switch (code) {
-                case RHO: return reshape(a, w);
-                case COMMA: return join(axis, a, w);
-                case ROT: return rotate(axis, a, w);
-                case TR: return transposeBy(a, w);
-                case TAKE: return cut(a, w, true);
-                case DROP: return cut(a, w, false);
-                case REP: return replicate(axis, a, w);
-                case EXPAND: return expand(axis, a, w);
-                default: return state.raise(SYNTAX);
-            }
-        }
-
         /** The axis of so many that is meant, from 0 on; below 0 with an event, or if there is none. */
         private int axisOf(int axis, int rank) {
             if (axis == 0) return rank - 1;
@@ -1529,7 +1491,7 @@ public final class ArrayHouse {
             for (int k = 0; k < rank; k++) poke(heap.shape, k, heap.num(a, k));
             int r = heap.make(rank);
             if (r == 0) return 0;
-            heap.findFill(w);
+            heap.findFill(w, 0);
             for (int i = 0; i < heap.count(r); i++) {
                 if (heap.count(w) > 0) heap.copyItem(w, i % heap.count(w), r, i);
                 else heap.putItem(r, i, heap.fillN, heap.fillD);
@@ -1546,12 +1508,15 @@ public final class ArrayHouse {
             int r = heap.make(rank + more);
             if (r == 0) return 0;
             if (heap.count(r) == 0) {
-                blankOf(w, 0);
+                findInside(w, 0);
                 heap.putItem(r, 0, heap.fillN, heap.fillD);
                 return heap.seal(r);
             }
             int room = heap.inner(r, rank - 1);
-            for (int i = 0; i < heap.count(w); i++) lodge(w, i, r, more, room);
+            for (int i = 0; i < heap.count(w); i++) {
+                findInside(w, i);
+                lodge(w, i, r, more, room);
+            }
             return heap.seal(r);
         }
 
@@ -1574,10 +1539,14 @@ public final class ArrayHouse {
             }
         }
 
-        /** The FILL of item i OPENED. */
-        private void blankOf(int w, int i) {
-            if (heap.den(w, i) == BOX) heap.findFill(heap.num(w, i));
-            else heap.findBlank(heap.num(w, i), heap.den(w, i));
+        /** The FILL of item i OPENED (of an EMPTY value's FILL, i = 0). */
+        private void findInside(int w, int i) {
+            if (heap.den(w, i) == BOX) {
+                heap.findFill(heap.num(w, i), 0);
+                return;
+            }
+            heap.fillD = heap.den(w, i) == SIGN ? SIGN : 1;
+            heap.fillN = heap.fillD == SIGN ? ' ' : 0;
         }
 
         /** Item i, OPENED, at the lowest places of its room in r, FILLS at the others. */
@@ -1586,7 +1555,6 @@ public final class ArrayHouse {
             int v = heap.num(w, i);
             int first = more - (box ? heap.rank(v) : 0);
             int rank = heap.rank(r) - more;
-            blankOf(w, i);
             for (int c = 0; c < room; c++) {
                 int rest = c;
                 int from = 0;
@@ -1621,7 +1589,7 @@ public final class ArrayHouse {
 
         /** A VECTOR of so many times the FILL of w. */
         private int blanks(int w, int n) {
-            heap.findFill(w);
+            heap.findFill(w, 0);
             int v = heap.vector(n);
             for (int i = 0; i < Math.max(1, n); i++) heap.putItem(v, i, heap.fillN, heap.fillD);
             return heap.seal(v);
@@ -1757,7 +1725,7 @@ public final class ArrayHouse {
             }
             int r = heap.make(rank);
             if (r == 0) return 0;
-            heap.findFill(w);
+            heap.findFill(w, 0);
             for (int t = 0; t < heap.count(r); t++) {
                 findPlace(r, t);
                 int from = 0;
@@ -1811,7 +1779,7 @@ public final class ArrayHouse {
             poke(heap.shape, axis, n);
             int r = heap.make(Math.max(1, heap.rank(w)));
             if (r == 0) return 0;
-            heap.findFill(w);
+            heap.findFill(w, 0);
             int inner = heap.inner(w, axis);
             int e = heap.wide(w, axis);
             for (int t = 0; t < heap.count(r); t++) {
@@ -1898,37 +1866,6 @@ public final class ArrayHouse {
             this.heap = heap;
             this.scalars = scalars;
             writer = new Writer(heap, MOST);
-        }
-
-        private int alone(int code, int w) {
-            switch (code) {
-                case UNIQ: return unique(w);
-                case UP: return grade(w, 1);
-                case DOWN: return grade(w, -1);
-                case IOTA: return iota(w);
-                case WHERE: return where(w);
-                case FMT: return format(w);
-                default: return state.raise(SYNTAX);
-            }
-        }
-
-        private int beside(int code, int a, int w) {
-            switch (code) {
-                case IOTA: return indexOf(a, w);
-                case MEM: return member(a, w);
-                case FIND: return find(a, w);
-                case PICK: return pick(a, w);
-                case MATCH: return heap.scalar(heap.matches(a, w) ? 1 : 0, 1);
-                case WITHOUT: return those(a, w, false);
-                case INTER: return those(a, w, true);
-                case UNION: return union(a, w);
-                case PART: return partition(a, w, GREATEST);
-                case PENC: return partition(a, w, 1);
-                case ENCO: return encode(a, w);
-                case DECO: return decode(a, w);
-                case ROLL: return deal(a, w);
-                default: return state.raise(SYNTAX);
-            }
         }
 
         /** The place of the first item of v that is ALIKE to that one, COUNT if none is. */
@@ -2157,28 +2094,30 @@ public final class ArrayHouse {
             return here;
         }
 
-        /** part, whose numbers may be great, or penc, whose greatest is 1. */
-        private int partition(int a, int w, int greatest) {
+        /** part, or penc, where each 1 begins a VECTOR. */
+        private int partition(int a, int w, boolean byOnes) {
             if (heap.rank(a) > 1 || heap.rank(w) > 1) return state.raise(RANK);
             int n = heap.count(a);
             if (n != heap.count(w)) return state.raise(LENGTH);
-            if (!heap.wholes(a, 0, greatest)) return state.raise(DOMAIN);
+            if (!heap.wholes(a, 0, byOnes ? 1 : GREATEST)) return state.raise(DOMAIN);
             int groups = 0;
-            int ahead = 0;
+            int before = 0;
             for (int i = 0; i < n; i++) {
                 int x = heap.num(a, i);
-                boolean begins = greatest == 1 ? x == 1 : x > ahead;
-                if (begins) poke(rows, groups++, i);
-                // how many items the latest group has
-                if (begins) poke(other, groups - 1, 1);
-                else if (groups > 0 && (greatest == 1 || x > 0)) poke(other, groups - 1, peek(other, groups - 1) + 1);
-                ahead = x;
+                // rows has where each VECTOR begins, other how many items it has
+                if (byOnes ? x == 1 : x > before) {
+                    poke(rows, groups, i);
+                    poke(other, groups++, 1);
+                } else if (groups > 0 && (byOnes || x > 0)) {
+                    poke(other, groups - 1, peek(other, groups - 1) + 1);
+                }
+                before = x;
             }
             int r = heap.vector(groups);
             for (int i = 0; i < groups; i++) {
                 heap.putItem(r, i, heap.slice(w, peek(rows, i), peek(other, i), 1), BOX);
             }
-            if (r != 0 && groups == 0) heap.putItem(r, 0, heap.slice(w, 0, 0, 1), BOX);
+            if (groups == 0) heap.putItem(r, 0, heap.slice(w, 0, 0, 1), BOX);
             return heap.seal(r);
         }
 
@@ -2203,7 +2142,7 @@ public final class ArrayHouse {
             for (int j = heap.count(a) - 1; j >= 0; j--) {
                 long an = heap.num(a, j);
                 long ad = heap.den(a, j);
-                if (!scalars.two(RESIDUE, an, ad, x, y)) return false;
+                if (!scalars.residue(an, ad, x, y)) return false;
                 heap.putItem(r, j * apart + i, scalars.n, scalars.d);
                 if (j == 0) break;
                 x = scalars.below(x * ad, an * y);
@@ -2576,13 +2515,6 @@ public final class ArrayHouse {
             this.operators = operators;
             scalars = new Scalars(state, heap);
             finds = new Finds(state, heap, scalars);
-        }
-
-        /** The VALUE of a STATEMENT of the HOUSE's; 0 if there is none. */
-        private int statement(int lo, int hi) {
-            place = 0;
-            places.deepest = 0;
-            return checked(phrase(lo, hi, 0));
         }
 
         /** What a PHRASE came to, if it may be nothing, but no function. */
@@ -3134,14 +3066,53 @@ public final class ArrayHouse {
 
         private int primitive(int code, int axis, int a, int w) {
             if (code == SAME) return w;
-            if (code == EXE) return execute(w);
-            boolean early = code < COMMA || code >= EQUAL && code <= LCM;
+            boolean early = code < COMMA && (code != ROLL || a == 0) || code >= EQUAL && code <= LCM;
+            if (early) return a == 0 ? scalars.alone(code, w) : scalars.beside(code, a, w);
             if (a == 0) {
-                if (early) return scalars.alone(code, w);
-                return code < UNIQ ? shapes.alone(code, axis, w) : finds.alone(code, w);
+                switch (code) {
+                    case RHO: return shapes.extents(w);
+                    case COMMA: return heap.slice(w, 0, heap.count(w), 1);
+                    case TALLY: return heap.scalar(heap.wide(w, 0), 1);
+                    case NESTING: return heap.scalar(heap.depth(w), 1);
+                    case HEAD: return heap.opened(w, 0);
+                    case ENC: return heap.enclosed(w);
+                    case MIX: return shapes.mix(w);
+                    case SPLIT: return shapes.split(w);
+                    case ENL: return shapes.enlist(w);
+                    case REV: return shapes.reverse(axis, w);
+                    case TR: return shapes.transpose(w);
+                    case UNIQ: return finds.unique(w);
+                    case UP: return finds.grade(w, 1);
+                    case DOWN: return finds.grade(w, -1);
+                    case IOTA: return finds.iota(w);
+                    case WHERE: return finds.where(w);
+                    case FMT: return finds.format(w);
+                    default: return execute(w);
+                }
             }
-            if (early && code != ROLL) return scalars.beside(code, a, w);
-            return code < UNIQ && code != ROLL ? shapes.beside(code, axis, a, w) : finds.beside(code, a, w);
+            switch (code) {
+                case RHO: return shapes.reshape(a, w);
+                case COMMA: return shapes.join(axis, a, w);
+                case ROT: return shapes.rotate(axis, a, w);
+                case TR: return shapes.transposeBy(a, w);
+                case TAKE: return shapes.cut(a, w, true);
+                case DROP: return shapes.cut(a, w, false);
+                case REP: return shapes.replicate(axis, a, w);
+                case EXPAND: return shapes.expand(axis, a, w);
+                case IOTA: return finds.indexOf(a, w);
+                case MEM: return finds.member(a, w);
+                case FIND: return finds.find(a, w);
+                case PICK: return finds.pick(a, w);
+                case MATCH: return heap.scalar(heap.matches(a, w) ? 1 : 0, 1);
+                case WITHOUT: return finds.those(a, w, false);
+                case INTER: return finds.those(a, w, true);
+                case UNION: return finds.union(a, w);
+                case PART: return finds.partition(a, w, false);
+                case PENC: return finds.partition(a, w, true);
+                case ENCO: return finds.encode(a, w);
+                case DECO: return finds.decode(a, w);
+                default: return finds.deal(a, w);
+            }
         }
 
         private int execute(int w) {
