@@ -533,38 +533,45 @@ public final class ArrayHouse {
         }
 
         private int rank(int v) {
-            return peek(words, v);
+            return v >= 0 && v < words.length ? words[v] : 0;
         }
 
         private int count(int v) {
-            return peek(words, v + COUNT);
+            return v >= 0 && v < words.length - COUNT ? words[v + COUNT] : 0;
         }
 
         private int size(int v) {
-            return peek(words, v + SIZE);
+            return v >= 0 && v < words.length - SIZE ? words[v + SIZE] : 0;
         }
 
         private int depth(int v) {
-            return peek(words, v + DEPTH);
+            return v >= 0 && v < words.length - DEPTH ? words[v + DEPTH] : 0;
         }
 
         private int wide(int v, int k) {
-            return k >= 0 && k < peek(words, v) ? peek(words, v + WIDE + k) : 1;
+            if (v < 0 || v >= words.length || k < 0 || k >= words[v]) return 1;
+            int p = v + WIDE + k;
+            return p < words.length ? words[p] : 1;
         }
 
+        /** The first number of item i: n of n / d, a SIGN's byte, the handle of what is in a BOX. */
         private int num(int v, int i) {
-            return peek(words, v + WIDE + peek(words, v) + 2 * i);
+            int p = v >= 0 && v < words.length ? v + WIDE + words[v] + 2 * i : NONE;
+            return p >= 0 && p < words.length ? words[p] : 0;
         }
 
+        /** The second one: d of n / d, SIGN, BOX. */
         private int den(int v, int i) {
-            return peek(words, v + WIDE + peek(words, v) + 2 * i + 1);
+            int p = v >= 0 && v < words.length ? v + WIDE + words[v] + 2 * i + 1 : NONE;
+            return p >= 0 && p < words.length ? words[p] : 0;
         }
 
         private void putItem(int v, int i, int n, int d) {
-            if (v < FIRST || i < 0) return;
-            int p = v + WIDE + peek(words, v) + 2 * i;
-            poke(words, p, n);
-            poke(words, p + 1, d);
+            if (v < FIRST || v >= words.length || i < 0) return;
+            int p = v + WIDE + words[v] + 2 * i;
+            if (p < FIRST || p >= words.length - 1) return;
+            words[p] = n;
+            words[p + 1] = d;
         }
 
         private void copyItem(int from, int i, int to, int j) {
@@ -611,7 +618,7 @@ public final class ArrayHouse {
             put(h + SIZE, 0);
             put(h + DEPTH, 0);
             for (int k = 0; k < rank; k++) put(h + WIDE + k, peek(shape, k));
-            for (int i = 0; i < items; i++) putItem(h, i, 0, 1);
+            for (int i = 0; i < 2 * items; i++) put(h + WIDE + rank + i, i & 1);
             return h;
         }
 
@@ -2783,7 +2790,7 @@ public final class ArrayHouse {
             int more = 0;
             for (int k = 0; k < rank; k++) {
                 int index = heap.look(list + VALUES + k);
-                if (!heap.allWholes(index)) return state.raise(DOMAIN) - 1;
+                if (!heap.wholes(index, -GREATEST, GREATEST)) return state.raise(DOMAIN) - 1;
             }
             for (int k = 0; k < rank; k++) {
                 int index = heap.look(list + VALUES + k);
