@@ -848,7 +848,10 @@ public final class ArrayHouse {
             put(v + 1, h);
             for (int i = 0; i < items; i++) {
                 int p = h + base + 2 * i;
-                if (peek(spare, p + 1) == BOX) poke(spare, p, moved(peek(spare, p)));
+                if (peek(spare, p + 1) != BOX) continue;
+                // this may make the spare row anew, so it comes ahead of it
+                int inside = moved(peek(spare, p));
+                poke(spare, p, inside);
             }
             return h;
         }
