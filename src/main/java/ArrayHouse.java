@@ -383,7 +383,7 @@ public final class ArrayHouse {
         int slot = nameOnTape();
         if (slot < 0) return NONE;
         int meant = places.meansAt(slot);
-        places.means[slot] = 0;
+        poke(places.means, slot, 0);
         pathLength = 0;
         return meant;
     }
@@ -431,7 +431,8 @@ public final class ArrayHouse {
     private static long gcd(long a, long b) {
         long x = Math.abs(a);
         long y = Math.abs(b);
-        while (y != 0) {
+        // the numbers get less at least by half in each two turns
+        for (int turns = 0; y != 0 && turns < 200; turns++) {
             long rest = x % y;
             x = y;
             y = rest;
@@ -1684,7 +1685,7 @@ public final class ArrayHouse {
             }
             for (int j = 0; j < more; j++) {
                 boolean there = false;
-                for (int k = 0; k < rank; k++) there |= peek(turn, k) == j;
+                for (int k = 0; k < rank; k++) there = there || peek(turn, k) == j;
                 if (!there) return state.raise(INDEX);
             }
             return turned(w, more);
@@ -2200,7 +2201,7 @@ public final class ArrayHouse {
 
     /** The functions that operators make. What they are made of is applied by the reader. */
     private static final class Operators {
-        private static final int NO_UNIT = Integer.MIN_VALUE;
+        private static final int NO_UNIT = 2;
 
         private final State state;
         private final Heap heap;
@@ -2533,9 +2534,8 @@ public final class ArrayHouse {
             return value == 0 || heap.isValue(value) ? value : state.raise(SYNTAX);
         }
 
-        /** The value that a PHRASE has to come to. */
-        private int worth(int lo, int hi) {
-            int value = phrase(lo, hi, 0);
+        /** Likewise, if it has to be a value. */
+        private int needed(int value) {
             return value == 0 ? state.raise(VALUE) : checked(value);
         }
 
@@ -2550,7 +2550,8 @@ public final class ArrayHouse {
             int value = strand(lo, piece);
             int next = ahead;
             boolean byAssignment = false;
-            while (next != 0 && state.event == 0) {
+            // each turn meets one token at least
+            for (int turns = hi - lo; next != 0 && turns > 0 && state.event == 0; turns--) {
                 byAssignment = next == ASSIGNMENT;
                 if (byAssignment) {
                     assign(lo, value);
@@ -2601,9 +2602,9 @@ public final class ArrayHouse {
             int list = 0;
             int many = 1;
             int next = 0;
-            while (mark > lo && state.event == 0) {
+            for (int turns = mark - lo; mark > lo && turns > 0; turns--) {
                 next = meet(lo, mark, true);
-                if (!heap.isValue(next)) break;
+                if (state.event != 0 || !heap.isValue(next)) break;
                 list = heap.node(NAMED, next, list, 0);
                 many++;
                 next = 0;
@@ -2764,7 +2765,7 @@ public final class ArrayHouse {
             int end = hi;
             for (int i = many - 1; i >= 0; i--) {
                 int start = text.lastIndex(lo, end);
-                int value = start < end ? worth(start, end) : 0;
+                int value = start < end ? needed(phrase(start, end, 0)) : 0;
                 if (state.event != 0) return 0;
                 if (i < LISTED) heap.put(list + VALUES + i, value);
                 sizes += heap.size(value);
@@ -3013,15 +3014,12 @@ public final class ArrayHouse {
             int slot = valueSlot(hi - 2);
             if (slot < 0) return;
             int own = peek(places.from, slot);
-            int places1 = numbered(own);
-            if (!state.spend(heap.size(places1))) return;
-            int chosen = phrase(open + 1, hi - 1, places1);
+            int ways = numbered(own);
+            if (!state.spend(heap.size(ways))) return;
+            int chosen = needed(phrase(open + 1, hi - 1, ways));
             state.leave();
             mark = open;
-            if (state.event != 0) return;
-            if (chosen == 0) state.raise(VALUE);
-            else if (!heap.isValue(chosen)) state.raise(SYNTAX);
-            else if (!heap.wholes(chosen, 1, heap.count(own))) state.raise(DOMAIN);
+            if (!heap.wholes(chosen, 1, heap.count(own))) state.raise(DOMAIN);
             if (state.event != 0) return;
             heap.copyShape(chosen);
             if (!suits(value, heap.rank(chosen))) return;
@@ -3164,7 +3162,7 @@ public final class ArrayHouse {
                 state.open = open;
                 places.deepest = mine;
                 place = mine;
-                value = worth(heap.look(guard + 1), heap.look(guard + 2));
+                value = needed(phrase(heap.look(guard + 1), heap.look(guard + 2), 0));
             }
             places.deepest = mine - 1;
             place = here;
@@ -3195,7 +3193,7 @@ public final class ArrayHouse {
                 int value = checked(phrase(lo, hi, 0));
                 return ended ? 0 : value;
             }
-            int test = worth(lo, colon);
+            int test = needed(phrase(lo, colon, 0));
             if (state.event != 0) return 0;
             if (text.type(colon) == GUARD) {
                 guard(test, colon + 1, hi);
@@ -3203,7 +3201,7 @@ public final class ArrayHouse {
             }
             if (heap.count(test) != 1) return state.raise(LENGTH);
             if (!heap.wholes(test, 0, 1)) return state.raise(DOMAIN);
-            return heap.num(test, 0) == 1 ? worth(colon + 1, hi) : 0;
+            return heap.num(test, 0) == 1 ? needed(phrase(colon + 1, hi, 0)) : 0;
         }
 
         private void guard(int events, int lo, int hi) {
