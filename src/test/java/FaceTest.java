@@ -82,6 +82,10 @@ public final class FaceTest {
         due("only a comment", x.run("# ( [ {"), 0);
         due("what the HOUSE means stays", x.run("x + 1"), 0);
         House.due("shown", x.shown(), "2 3 4\n");
+        due("values in two NAMES", x.run("y := (1 2) 'ab' (enc 3 4) ; z := y ; w := y y ; f := +/ ; g := f\""), 0);
+        due("values in two NAMES", x.run("big := iota 1000"), 0);
+        due("values in two NAMES", x.run("z match y ; w match y z ; z ; g (1 2) (3 4)"), 0);
+        House.due("shown", x.shown(), "1\n1\n(1 2) (ab) ((3 4))\n3 7\n");
     }
 
     private static void promises5to8() {
@@ -154,6 +158,14 @@ public final class FaceTest {
         due("into", x.h.into(0), 1);
         due("into", x.h.into(0), -1);
         due("about 5", x.h.about(5), 2);
+        x.run("d := enc enc enc enc enc enc enc , 7");
+        due("view", x.view("d"), 0);
+        for (int i = 1; i <= 7; i++) due("into", x.h.into(0), i < 7 ? 0 : 1);
+        due("led", x.h.about(5), 7);
+        due("item", x.h.number(0, false), 7);
+        due("into", x.h.into(0), -1);
+        for (int i = 1; i <= 7; i++) due("back", x.h.back(), 0);
+        due("back", x.h.back(), -1);
         x.run("");
         due("into without a VIEW", x.h.into(0), -1);
         due("back without a VIEW", x.h.back(), -1);

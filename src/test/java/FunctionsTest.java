@@ -54,6 +54,7 @@ public final class FunctionsTest {
         fails("- 1 'a'", DOMAIN);
         fails("% 0 'a'", DOMAIN);
         shows("rho - 2 3 rho 1", "2 3");
+        shows("tally - 1000 rho 1 ; tally 1 + 1000 rho 1 ; tally - 500 rho enc , 1", "1000|1000|500");
     }
 
     private static void twoArguments() {
@@ -299,6 +300,8 @@ public final class FunctionsTest {
         fails("(1 1 rho 1) iota 5", RANK);
         shows("where 0 1 0 2 ; where 2 2 rho 1 0 0 1 ; rho where 0 0", "2 4 4|(1 1) (2 2)|0");
         shows("enc first where 1 2 rho 0", "(0 0)");
+        shows("tally where , 1000", "1000");
+        fails("where , 1001", LIMIT);
         fails("where 1", RANK);
         fails("where _1 0", DOMAIN);
         fails("where 'ab'", DOMAIN);
@@ -347,7 +350,7 @@ public final class FunctionsTest {
     }
 
     private static void chance() {
-        shows("? 10 10", "8 10");
+        shows("? 10 10 ; ? 1", "8 10|1");
         shows("? 10 10 ; 3 ? 5", "8 10|4 1 2");
         shows("rho 0 ? 5 ; rho 3 ? 3", "0|3");
         fails("? 0", DOMAIN);

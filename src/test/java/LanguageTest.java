@@ -100,7 +100,7 @@ public final class LanguageTest {
         shows("rho 'a'", "");
         shows("rho 'ab'", "2");
         shows("1 # 2 ; 3\n4", "1|4");
-        shows("'#' , '1'", "#1");
+        shows("'#' , '1' ; '~' ; '! ~'", "#1|~|! ~");
         shows("1+2", "3");
         shows("3<=3", "1");
         shows("3<2", "0");

@@ -87,6 +87,7 @@ public final class OperatorsTest {
         fails("1 2 ,\" 1 2 3", LENGTH);
         fails("1 2 ,\" 2 2 rho 1", RANK);
         shows("rho {1 + 'a'}\" '' ; first {'a'}\" '' ; 5 {1}\" 0 3 rho 1", "0|0|[0 3]");
+        shows("(, 1) ,\" 3 4 ; (enc 1 2) ,\" 3 4 ; 3 4 ,\" enc 1 2", "(1 3) (1 4)|(1 2 3) (1 2 4)|(3 1 2) (4 1 2)");
         shows("-~ 5 ; 2 -~ 5 ; ,~ 1 2", "0|3|1 2 1 2");
     }
 
@@ -118,6 +119,8 @@ public final class OperatorsTest {
         fails("+ rank 'a' 1", DOMAIN);
         fails("1 2 + rank 0 2 2 rho 1", RANK);
         fails("1 2 + rank 0 1 2 3", LENGTH);
+        shows("1 2 3 + rank 0 5 ; 5 + rank 0 1 2 3 ; {rho right} rank 2 2 3 4 rho 1", "6 7 8|6 7 8|[2 2]3 4 3 4");
+        shows("(2 2 rho iota 4) , rank 1 5 6 ; 5 6 , rank 1 2 2 rho iota 4", "[2 4]1 2 5 6 3 4 5 6|[2 4]5 6 1 2 5 6 3 4");
         shows("depth rank 0 1 (2 3) ; tally rank 0 (1 2) (3 4)", "0 2|1 1");
     }
 
@@ -182,6 +185,11 @@ public final class OperatorsTest {
         spends("1 floor 2", 4);
         spends("{+ right} pow 2000000000 5", 7 + 9 * ((40000 - 7) / 9) + 5);
         House x = new House();
+        House.due("all STEPS", x.run("+ pow 13330 1 ; 1"), 0);
+        House.due("all STEPS", x.h.steps(), 40000);
+        House.due("one more", x.run("+ pow 13330 1 ; 1 ; ; 1"), STEPS);
+        House.due("one more", x.h.steps(), 40000);
+        House.due("one more", x.h.at(), 3);
         House.due("STEPS", x.run("1 ; {1 + right} pow 2000000000 0 ; 2"), STEPS);
         House.due("STEPS at", x.h.at(), 1);
         House.due("shown ahead", x.shown(), "1\n");
@@ -203,6 +211,7 @@ public final class OperatorsTest {
         shows("+" + many("\"", 40) + " 1", "1");
         fails("+" + many("\"", 41) + " 1", LIMIT);
         shows("{0 = right : 0 ; self right - 1} 39", "0");
+        shows("5 {0 = right : left ; left self right - 1} 39", "5");
         fails("{0 = right : 0 ; self right - 1} 40", LIMIT);
         shows("{0 = right : 0 ; exe 'self right - 1'} 19", "0");
         fails("{0 = right : 0 ; exe 'self right - 1'} 20", LIMIT);
