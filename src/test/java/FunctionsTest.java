@@ -77,7 +77,7 @@ public final class FunctionsTest {
         fails("_1 ! 2", DOMAIN);
         fails("1r2 ! 2", DOMAIN);
         shows("3 min 2 ; 3 max 2 ; 1r2 min 1r3", "2|3|1r3");
-        shows("1 < 2 ; 2 < 2 ; 2 <= 2 ; 2 > 1 ; 2 >= 3", "1|0|1|1|0");
+        shows("1 < 2 ; 2 < 2 ; 2 <= 2 ; 2 > 1 ; 2 >= 3 ; 2 >= 2 ; 2 > 2", "1|0|1|1|0|1|0");
         shows("'a' = 'a' ; 'a' = 1 ; 'a' /= 'b' ; 1 = 1", "1|0|1|1");
         fails("'a' < 'b'", DOMAIN);
         fails("'a' + 1", DOMAIN);
@@ -168,6 +168,8 @@ public final class FunctionsTest {
     private static void mixing() {
         shows("mix (1 2) (3 4 5)", "[2 3]1 2 0 3 4 5");
         shows("mix 'ab' 5", "[2 2]a b 5 0");
+        shows("mix (2 3 rho iota 6) (7 8)", "[2 2 3]1 2 3 4 5 6 7 8 0 0 0 0");
+        shows("mix 9 (2 3 rho iota 6)", "[2 2 3]9 0 0 0 0 0 1 2 3 4 5 6");
         shows("mix 1 2 3 ; mix 5 ; mix enc 1 2", "1 2 3|5|1 2");
         shows("mix (2 2 rho 1 2 3 4) (5 6)", "[2 2 2]1 2 3 4 5 6 0 0");
         shows("rho mix '' ; first mix ''", "0| ");
@@ -196,6 +198,7 @@ public final class FunctionsTest {
         fails("rev['a'] 5", DOMAIN);
         fails("rev[1 2] 5", LENGTH);
         shows("1 rot 1 2 3 ; _1 rot 1 2 3 ; 7 rot 1 2 3 ; _2000000000 rot 1 2 3", "2 3 1|3 1 2|2 3 1|2 3 1");
+        shows("first 1 rot '' ; first rev ''", " | ");
         shows("1 2 rot 2 3 rho iota 6", "[2 3]2 3 1 6 4 5");
         shows("1 rot[1] 2 3 rho iota 6", "[2 3]4 5 6 1 2 3");
         shows("0 1 0 rot[1] 2 3 rho iota 6", "[2 3]1 5 3 4 2 6");
@@ -268,6 +271,9 @@ public final class FunctionsTest {
         fails("(1 1 rho 1) union 1", RANK);
         fails("1 without 1 1 rho 1", RANK);
         fails("1 inter 1 1 rho 1", RANK);
+        fails("(1 1 rho 1) without 1", RANK);
+        fails("(1 1 rho 1) inter 1", RANK);
+        fails("1 union 1 1 rho 1", RANK);
         fails("(iota 600) union - iota 600", LIMIT);
         shows("1 5 (1 2) mem (1 2) 5 7 ; 5 mem 5 ; 'a' mem 'abc' ; rho (2 2 rho 1) mem ''", "0 1 1|1|1|2 2");
         shows("(1 2) match 1 2 ; 1 2 match 1 3", "1|0");
@@ -314,6 +320,7 @@ public final class FunctionsTest {
         fails("1 pick 5", RANK);
         fails("(1 1 rho 1) pick 5 6", RANK);
         fails("(enc 1 2) pick 5 6", RANK);
+        fails("(enc 1 1 rho 1) pick 5 6", RANK);
         fails("3 pick 5 6", INDEX);
         fails("0 pick 5 6", INDEX);
         fails("'a' pick 5 6", DOMAIN);
@@ -338,6 +345,9 @@ public final class FunctionsTest {
         fails("'a' enco 1", DOMAIN);
         fails("(1 1 rho 2) enco 1", RANK);
         fails("2 enco 1 (2 3)", DOMAIN);
+        fails("2 enco 'a' 1", DOMAIN);
+        fails("2 deco 'a' 1", DOMAIN);
+        fails("2 deco 1 1 rho 1", RANK);
         fails("0 1r2 enco 2000000000", LIMIT);
         fails("1 1r2 enco 2000000000", LIMIT);
         shows("2 deco 1 0 1 ; 24 60 60 deco 1 1 1 ; 2 deco 0 rho 0", "5|3661|0");

@@ -260,6 +260,11 @@ public final class LanguageTest {
         shows("x := 2 3 rho iota 6 ; x[;]", "[2 3]1 2 3 4 5 6");
         shows("x := 2 3 rho iota 6 ; x[2 1;3 1]", "[2 2]6 4 3 1");
         shows("x := 2 3 rho iota 6 ; rho x[, 1;, 2]", "1 1");
+        shows("x := 2 2 2 rho iota 8 ; x[;;1] ; x[1;;] ; x[;2;]", "[2 2]1 3 5 7|[2 2]1 2 3 4|[2 2]3 4 7 8");
+        shows("x := 2 2 2 rho iota 8 ; x[;;] ; x[2;1;2]", "[2 2 2]1 2 3 4 5 6 7 8|6");
+        fails("x := 2 2 2 rho iota 8 ; x[;;;]", RANK);
+        fails("x := 2 2 2 rho iota 8 ; x[;]", RANK);
+        fails("x := 2 ; x[;;;;;;;;;;;;;;;;;;;;]", RANK);
         shows("'abc'[2]", "b");
         shows("(1 2) (3 4)[2]", "(1 2) 4");
         fails("x := 4 5 6 ; x[1;1]", RANK);
@@ -367,10 +372,44 @@ public final class LanguageTest {
         shows("n := 10 ; f := {right + n} ; {n := 1 ; f right} 5", "15");
         shows("n := 10 ; {n := 1 ; {right + n} right} 5", "6");
         shows("n := 10 ; f := {n} pow 1 ; {n := 1 ; f right} 5", "10");
+        shows("{n := 7 ; f := {right + n} ; {n := 1 ; f right} right} 5", "12");
+        shows("{{n := 7 ; f := {n + right} ; {f right} right} right} 5", "12");
+        shows("{n := 2 ; {n := 7 ; f := {n + right} ; {f right} right} right + n} 5", "14");
+        fails("{n := 3 ; 1} 0 ; {n} 0", VALUE);
         shows("k := 1 ; f := {right + 1} pow k ; f 1 ; k := 5 ; f 1", "2|6");
+        functionTexts();
         fails("f := f ; f 1", VALUE);
         fails("f := g ; g := f ; f 1", VALUE);
         fails("g := + ; f := g ; g := f ; f 1", LIMIT);
+    }
+
+    /** 6000 bytes in the HOUSE; what a NAME meant counts no more; none are counted in a CALL. */
+    private static void functionTexts() {
+        House x = new House();
+        House.due("2000 bytes", x.run("a := {" + ones(998) + "}"), 0);
+        House.due("bytes", x.h.told(3), 1997);
+        House.due("4000", x.run("b := {" + ones(999) + "} "), 0);
+        House.due("6000", x.run("c := {" + ones(999) + "} ; d := + ; e := - ; f := *"), 0);
+        House.due("bytes", x.h.told(3), 5998);
+        House.due("beyond", x.run("g := {1}"), LIMIT);
+        House.due("just so", x.run("g := +/"), 0);
+        House.due("bytes", x.h.told(3), 6000);
+        House.due("the same NAME anew", x.run("g := -/"), 0);
+        House.due("a longer one", x.run("d := +/"), LIMIT);
+        House.due("what it meant stays", x.run("1 d 2"), 0);
+        House.due("in a CALL", x.run("{h := {" + ones(999) + "} ; 5} 1"), 0);
+        House.due("a value instead", x.run("a := 1 ; d := +/"), 0);
+        House.due("bytes", x.h.told(3), 6000 - 1997 + 1);
+        House.due("they work in a later run", x.run("g 5 3 ; 5 d 3 4"), LENGTH);
+        House.due("they work in a later run", x.run("g 5 3 ; d 3 4 ; (c 0) match b 0"), 0);
+        House.due("they work in a later run", x.shown(), "2\n7\n1\n");
+    }
+
+    /** So many bytes of 1 and blanks less one, the first and the last one 1. */
+    private static String ones(int n) {
+        StringBuilder b = new StringBuilder("1");
+        for (int i = 1; i < n; i++) b.append(" 1");
+        return b.toString();
     }
 
     private static void calls() {
@@ -424,6 +463,7 @@ public final class LanguageTest {
         shows("{2 :: 8 ; x := 3} 1", "8");
         shows("{7 :: 6 ; self right} 1", "6");
         fails("{0 :: 1 ; {1 + right} pow 2000000000 0} 0", STEPS);
+        fails("x := 1000 rho 1 ; {0 :: 1 ; + pow 2000000000 x} 0", STEPS);
         shows("{5 :: x := 4 ; right + 'a'} 1", "4");
         fails("{5 :: ; right + 'a'} 1", VALUE);
         fails("{5 :: f := + ; right + 'a'} 1", VALUE);
@@ -449,6 +489,8 @@ public final class LanguageTest {
         shows("exe 'f := + ; 1 f 2'", "3");
         shows("exe '{1 : 2} 0'", "2");
         fails("exe 1 2", DOMAIN);
+        fails("exe 1 'a'", DOMAIN);
+        fails("exe 5", DOMAIN);
         fails("exe 2 2 rho 'a'", RANK);
         shows("exe '5'", "5");
         fails("exe 'nope'", VALUE);

@@ -98,6 +98,7 @@ public final class OperatorsTest {
         fails("(1 1 1 1 rho 1) +@ 1 1 1 rho 1", LIMIT);
         shows("1 2 3 +.* 4 5 6 ; (2 2 rho iota 4) +.* 2 2 rho iota 4 ; 2 +.* 3", "32|[2 2]7 10 15 22|6");
         shows("2 +.* 1 2 3 ; 1 2 3 +.* 2 ; (, 2) +.* 1 2 3 ; (2 3 rho 1) +.* 5", "12|12|12|15 15");
+        shows("1 2 3 +.* 1 2 rho 5 6 ; (2 1 rho 5 6) +.* 1 2 3", "30 36|30 36");
         shows("'' +.* '' ; 5 +.* '' ; rho (0 2 rho 1) +.* 2 3 rho 1 ; 1 2 ,.+ 3 4", "0|0|0 3|(4 6)");
         fails("1 2 +.* 1 2 3", LENGTH);
         fails("'' ,.+ ''", DOMAIN);
@@ -121,6 +122,7 @@ public final class OperatorsTest {
         fails("1 2 + rank 0 1 2 3", LENGTH);
         shows("1 2 3 + rank 0 5 ; 5 + rank 0 1 2 3 ; {rho right} rank 2 2 3 4 rho 1", "6 7 8|6 7 8|[2 2]3 4 3 4");
         shows("(2 2 rho iota 4) , rank 1 5 6 ; 5 6 , rank 1 2 2 rho iota 4", "[2 4]1 2 5 6 3 4 5 6|[2 4]5 6 1 2 5 6 3 4");
+        shows("(2 2 rho iota 4) , rank 1 5 6 7 ; {tally right} rank _2 1 2 3", "[2 5]1 2 5 6 7 3 4 5 6 7|1 1 1");
         shows("depth rank 0 1 (2 3) ; tally rank 0 (1 2) (3 4)", "0 2|1 1");
     }
 
@@ -211,6 +213,9 @@ public final class OperatorsTest {
         shows("+" + many("\"", 40) + " 1", "1");
         fails("+" + many("\"", 41) + " 1", LIMIT);
         shows("{0 = right : 0 ; self right - 1} 39", "0");
+        shows("{0 = right : n := 4 ; m := right ; self right - 1} 39", "4");
+        shows("k := 3 ; {0 = right : k ; self right - 1} 39", "3");
+        shows("{7 :: right ; 0 = right : self 5 ; self right - 1} 39", "0");
         shows("5 {0 = right : left ; left self right - 1} 39", "5");
         fails("{0 = right : 0 ; self right - 1} 40", LIMIT);
         shows("{0 = right : 0 ; exe 'self right - 1'} 19", "0");
