@@ -78,6 +78,7 @@ public final class FunctionsTest {
         fails("1r2 ! 2", DOMAIN);
         shows("3 min 2 ; 3 max 2 ; 1r2 min 1r3", "2|3|1r3");
         shows("1 < 2 ; 2 < 2 ; 2 <= 2 ; 2 > 1 ; 2 >= 3 ; 2 >= 2 ; 2 > 2", "1|0|1|1|0|1|0");
+        shows("3 <= 2 ; 2 < 1 ; 1 > 2 ; 1 /= 1 ; 'a' /= 'a' ; 'a' /= 1", "0|0|0|0|0|1");
         shows("'a' = 'a' ; 'a' = 1 ; 'a' /= 'b' ; 1 = 1", "1|0|1|1");
         fails("'a' < 'b'", DOMAIN);
         fails("'a' + 1", DOMAIN);
@@ -157,6 +158,9 @@ public final class FunctionsTest {
         fails("1 2 ,[1r2] 2 2 rho 1", RANK);
         shows("rho (2 3 rho 1) ,[3r2] 0", "2 2 3");
         fails("(1 1 1 1 1 1 rho 1) ,[1r2] 0", LIMIT);
+        shows("first '' ,[1r2] 0 rho 1 ; first (0 rho 1) ,[1r2] ''", " |0");
+        fails("1 2 3 , 2 2 rho 1", LENGTH);
+        fails("(2 3 rho 1) , 2 2 2 rho 1", LENGTH);
         shows("first '' , 0 rho 0 ; first (0 rho 0) , ''", " |0");
         shows("tally 5 ; tally 1 2 3 ; tally 4 2 rho 1 ; tally ''", "1|3|4|0");
         shows("depth 5 ; depth 'a' ; depth '' ; depth 1 (2 3) ; depth 0 rho enc enc 1 2", "0|0|1|2|3");
@@ -341,6 +345,7 @@ public final class FunctionsTest {
         shows("2 2 2 enco 5 ; 0 10 enco 123 ; 10 10 enco 123", "1 0 1|12 3|2 3");
         shows("24 60 enco 100 200 ; 10 enco 17 ; rho (0 rho 0) enco 1 2", "[2 2]1 3 40 20|7|0 2");
         shows("1 0 1 enco 7r2", "0 3 1r2");
+        shows("a := 10 10 ; a enco first 123 1 2 3", "2 3");
         shows("10 10 enco _1 ; 3r2 2 enco 7r2", "9 9|1 3r2");
         fails("'a' enco 1", DOMAIN);
         fails("(1 1 rho 2) enco 1", RANK);

@@ -247,6 +247,11 @@ public final class LanguageTest {
         House.spends(":= 2", 3);
         House.spends("1 := 2 3", 4);
         House.spends("1 min", 3);
+        House.spends("+ pow", 2);
+        House.spends("+ rank", 2);
+        House.spends("+ .", 2);
+        House.spends("+ pow + 1", 4);
+        House.spends("nope +", 3);
     }
 
     private static void indices() {
@@ -261,6 +266,7 @@ public final class LanguageTest {
         shows("x := 2 3 rho iota 6 ; x[2 1;3 1]", "[2 2]6 4 3 1");
         shows("x := 2 3 rho iota 6 ; rho x[, 1;, 2]", "1 1");
         shows("x := 2 2 2 rho iota 8 ; x[;;1] ; x[1;;] ; x[;2;]", "[2 2]1 3 5 7|[2 2]1 2 3 4|[2 2]3 4 7 8");
+        shows("x := 2 2 rho iota 4 ; x[x[1;1];2] ; x[{1 ; 2} 5;1] ; x[(x[1;2]);1]", "2|1|3");
         shows("x := 2 2 2 rho iota 8 ; x[;;] ; x[2;1;2]", "[2 2 2]1 2 3 4 5 6 7 8|6");
         fails("x := 2 2 2 rho iota 8 ; x[;;;]", RANK);
         fails("x := 2 2 2 rho iota 8 ; x[;]", RANK);
@@ -307,6 +313,9 @@ public final class LanguageTest {
         fails("x := 1 2 ; x + := 1 2 3", LENGTH);
         fails("x := 1 2 ; x ,[1] := 3", SYNTAX);
         shows("x := 1 2 3 ; x[2] := 9 ; x", "1 9 3");
+        shows("x := 1 2 3 ; 7 , x[2] := 9 ; x", "7 9|1 9 3");
+        shows("7 , (a b) := 1 2 ; b", "7 1 2|2");
+        shows("y := x := 1 2 ; y := x[1] := 5 ; x y", "(5 2) 5");
         shows("x := 1 2 3 ; x[2 2] := 8 9 ; x", "1 9 3");
         shows("x := 1 2 3 ; x[] := 0 ; x", "0 0 0");
         shows("x := 1 2 3 ; x[1 3] := , 7 ; x", "7 2 7");
