@@ -460,6 +460,17 @@ public final class ArrayHouse {
             return 0;
         }
 
+        /** Likewise NONE, for those whose answer may be 0. */
+        private int refuse(int e) {
+            if (event == 0) event = e;
+            return NONE;
+        }
+
+        private boolean fail(int e) {
+            if (event == 0) event = e;
+            return false;
+        }
+
         private boolean spend(int n) {
             if (event != 0) return false;
             if (n > STEP_LIMIT - spent) {
@@ -493,7 +504,7 @@ public final class ArrayHouse {
 
     /** All values, nodes of functions and lists lie in one row of words; a handle is the place of the first one. */
     private static final class Heap {
-        private static final int WORDS_LIMIT = 1500000;
+        private static final int WORDS_LIMIT = 1600000;
         private static final int COUNT = 1;
         private static final int SIZE = 2;
         private static final int DEPTH = 3;
@@ -594,14 +605,14 @@ public final class ArrayHouse {
 
         /** How many items a value of the extents in shape has; -1 with LIMIT. */
         private int room(int rank) {
-            if (rank > RANKS) return state.raise(LIMIT) - 1;
+            if (rank > RANKS) return state.refuse(LIMIT);
             long product = 1;
             for (int k = 0; k < rank; k++) {
                 int e = peek(shape, k);
-                if (e < 0 || e > MOST) return state.raise(LIMIT) - 1;
+                if (e < 0 || e > MOST) return state.refuse(LIMIT);
                 product *= e;
             }
-            return product > MOST ? state.raise(LIMIT) - 1 : (int) product;
+            return product > MOST ? state.refuse(LIMIT) : (int) product;
         }
 
         /** A value of the extents in shape, all items 0 as yet; 0 with LIMIT. */
@@ -783,8 +794,8 @@ public final class ArrayHouse {
             if (rw == 0) return 2;
             if (count(w) == 1 && (count(a) != 1 || rw <= ra)) return 2;
             if (count(a) == 1) return 1;
-            if (ra != rw) return state.raise(RANK) - 1;
-            return sameExtents(a, w) ? 0 : state.raise(LENGTH) - 1;
+            if (ra != rw) return state.refuse(RANK);
+            return sameExtents(a, w) ? 0 : state.refuse(LENGTH);
         }
 
         /** Whether all items are WHOLES lo .. hi. */
@@ -1332,11 +1343,6 @@ public final class ArrayHouse {
             return heap.seal(r);
         }
 
-        private boolean fail(int event) {
-            if (state.event == 0) state.event = event;
-            return false;
-        }
-
         private boolean whole(int x) {
             n = x;
             d = 1;
@@ -1346,10 +1352,10 @@ public final class ArrayHouse {
         /** x / y, y not 0, in lowest terms; LIMIT. */
         private boolean settle(long x, long y) {
             long g = gcd(x, y);
-            if (g == 0) return fail(DOMAIN);
+            if (g == 0) return state.fail(DOMAIN);
             long above = (y < 0 ? -x : x) / g;
             long below = Math.abs(y) / g;
-            if (Math.abs(above) > GREATEST || below > GREATEST) return fail(LIMIT);
+            if (Math.abs(above) > GREATEST || below > GREATEST) return state.fail(LIMIT);
             n = (int) above;
             d = (int) below;
             return true;
@@ -1360,14 +1366,14 @@ public final class ArrayHouse {
                 case PLUS: return settle(wn, wd);
                 case MINUS: return settle(-wn, wd);
                 case TIMES: return whole(Integer.compare(wn, 0));
-                case OVER: return wn == 0 ? fail(DOMAIN) : settle(wd, wn);
+                case OVER: return wn == 0 ? state.fail(DOMAIN) : settle(wd, wn);
                 case RESIDUE: return settle(Math.abs(wn), wd);
                 case BANG: return factorial(wn, wd);
                 case FLOOR: return whole((int) below(wn, wd));
                 case CEIL: return whole((int) -below(-wn, wd));
-                case NOT: return isBit(wn, wd) ? whole(1 - wn) : fail(DOMAIN);
+                case NOT: return isBit(wn, wd) ? whole(1 - wn) : state.fail(DOMAIN);
                 case ROLL: return roll(wn, wd);
-                default: return fail(SYNTAX);
+                default: return state.fail(SYNTAX);
             }
         }
 
@@ -1376,16 +1382,16 @@ public final class ArrayHouse {
         }
 
         private boolean roll(int wn, int wd) {
-            if (wd != 1 || wn < 1) return fail(DOMAIN);
+            if (wd != 1 || wn < 1) return state.fail(DOMAIN);
             return settle((long) state.roll(wn) + state.origin, 1);
         }
 
         private boolean factorial(int wn, int wd) {
-            if (wd != 1 || wn < 0) return fail(DOMAIN);
+            if (wd != 1 || wn < 0) return state.fail(DOMAIN);
             long x = 1;
             for (int i = 2; i <= wn; i++) {
                 x *= i;
-                if (x > GREATEST) return fail(LIMIT);
+                if (x > GREATEST) return state.fail(LIMIT);
             }
             return settle(x, 1);
         }
@@ -1399,7 +1405,7 @@ public final class ArrayHouse {
             boolean same = an == wn && ad == wd;
             if (code == EQUAL) return whole(same ? 1 : 0);
             if (code == DIFFER) return whole(same ? 0 : 1);
-            if (ad < 1 || wd < 1) return fail(DOMAIN);
+            if (ad < 1 || wd < 1) return state.fail(DOMAIN);
             int order = Long.compare(an * wd, wn * ad);
             switch (code) {
                 case PLUS: return settle(an * wd + wn * ad, ad * wd);
@@ -1415,26 +1421,26 @@ public final class ArrayHouse {
                 case MORE: return whole(order > 0 ? 1 : 0);
                 case MORE_EQUAL: return whole(order >= 0 ? 1 : 0);
                 case BANG: return choices(an, ad, wn, wd);
-                case AND: return isBit(an, ad) && isBit(wn, wd) ? whole((int) (an & wn)) : fail(DOMAIN);
-                case OR: return isBit(an, ad) && isBit(wn, wd) ? whole((int) (an | wn)) : fail(DOMAIN);
+                case AND: return isBit(an, ad) && isBit(wn, wd) ? whole((int) (an & wn)) : state.fail(DOMAIN);
+                case OR: return isBit(an, ad) && isBit(wn, wd) ? whole((int) (an | wn)) : state.fail(DOMAIN);
                 default: break;
             }
-            if (ad != 1 || wd != 1) return fail(DOMAIN);
+            if (ad != 1 || wd != 1) return state.fail(DOMAIN);
             long g = gcd(an, wn);
             if (code == GCD) return settle(g, 1);
             return g == 0 || an == 0 || wn == 0 ? whole(0) : settle(Math.abs(an * wn), g);
         }
 
         private boolean divide(long an, long ad, long wn, long wd) {
-            if (wn == 0) return an == 0 ? whole(1) : fail(DOMAIN);
+            if (wn == 0) return an == 0 ? whole(1) : state.fail(DOMAIN);
             return settle(an * wd, ad * wn);
         }
 
         /** It stays in lowest terms, so what grows beyond the bounds never comes back. */
         private boolean power(long an, long ad, long wn, long wd) {
-            if (wd != 1) return fail(DOMAIN);
+            if (wd != 1) return state.fail(DOMAIN);
             if (wn == 0) return whole(1);
-            if (an == 0) return wn < 0 ? fail(DOMAIN) : whole(0);
+            if (an == 0) return wn < 0 ? state.fail(DOMAIN) : whole(0);
             long times = Math.abs(wn);
             if (ad == 1 && Math.abs(an) == 1) return whole(an < 0 && times % 2 == 1 ? -1 : 1);
             long x = 1;
@@ -1442,7 +1448,7 @@ public final class ArrayHouse {
             for (long i = 0; i < times; i++) {
                 x *= an;
                 y *= ad;
-                if (Math.abs(x) > GREATEST || y > GREATEST) return fail(LIMIT);
+                if (Math.abs(x) > GREATEST || y > GREATEST) return state.fail(LIMIT);
             }
             return wn < 0 ? settle(y, x) : settle(x, y);
         }
@@ -1455,13 +1461,13 @@ public final class ArrayHouse {
 
         /** Each product is a number of choices, too: those only grow, and soon pass the bound. */
         private boolean choices(long a, long ad, long w, long wd) {
-            if (ad != 1 || wd != 1 || a < 0 || w < 0) return fail(DOMAIN);
+            if (ad != 1 || wd != 1 || a < 0 || w < 0) return state.fail(DOMAIN);
             if (a > w) return whole(0);
             long times = Math.min(a, w - a);
             long x = 1;
             for (long i = 1; i <= times; i++) {
                 x = x * (w - times + i) / i;
-                if (x > GREATEST) return fail(LIMIT);
+                if (x > GREATEST) return state.fail(LIMIT);
             }
             return settle(x, 1);
         }
@@ -1483,10 +1489,10 @@ public final class ArrayHouse {
         /** The axis of so many that is meant, from 0 on; below 0 with an event, or if there is none. */
         private int axisOf(int axis, int rank) {
             if (axis == 0) return rank - 1;
-            if (heap.count(axis) != 1) return state.raise(LENGTH) - 1;
-            if (heap.den(axis, 0) != 1) return state.raise(DOMAIN) - 1;
+            if (heap.count(axis) != 1) return state.refuse(LENGTH);
+            if (heap.den(axis, 0) != 1) return state.refuse(DOMAIN);
             int k = heap.num(axis, 0) - state.origin;
-            return k < 0 || k >= rank ? state.raise(INDEX) - 1 : k;
+            return k < 0 || k >= rank ? state.refuse(INDEX) : k;
         }
 
         private int extents(int w) {
@@ -2158,7 +2164,7 @@ public final class ArrayHouse {
                 if (j == 0) break;
                 x = scalars.below(x * ad, an * y);
                 y = 1;
-                if (Math.abs(x) > GREATEST) return state.raise(LIMIT) != 0;
+                if (Math.abs(x) > GREATEST) return state.fail(LIMIT);
             }
             return true;
         }
@@ -2790,15 +2796,15 @@ public final class ArrayHouse {
         /** The RANK of x [ INDICES ], its extents in shape, its items' places in rows; below 0 with an event. */
         private int locate(int x, int list) {
             int rank = heap.rank(x);
-            if (heap.look(list) != rank) return state.raise(RANK) - 1;
+            if (heap.look(list) != rank) return state.refuse(RANK);
             int more = 0;
             for (int k = 0; k < rank; k++) {
                 int index = heap.look(list + VALUES + k);
-                if (!heap.wholes(index, -GREATEST, GREATEST)) return state.raise(DOMAIN) - 1;
+                if (!heap.wholes(index, -GREATEST, GREATEST)) return state.refuse(DOMAIN);
             }
             for (int k = 0; k < rank; k++) {
                 int index = heap.look(list + VALUES + k);
-                if (!heap.wholes(index, state.origin, state.origin + heap.wide(x, k) - 1)) return state.raise(INDEX) - 1;
+                if (!heap.wholes(index, state.origin, state.origin + heap.wide(x, k) - 1)) return state.refuse(INDEX);
                 int axes = index == 0 ? 1 : heap.rank(index);
                 for (int j = 0; j < axes; j++) {
                     poke(heap.shape, more++, index == 0 ? heap.wide(x, k) : heap.wide(index, j));
@@ -2932,13 +2938,13 @@ public final class ArrayHouse {
         /** The slot of a NAME in the place at hand; NONE with LIMIT. */
         private int slotHere(int token) {
             int slot = places.slotFor(place, text.field(token, Text.A), text.field(token, Text.B));
-            return slot < 0 ? state.raise(LIMIT) - 1 : slot;
+            return slot < 0 ? state.refuse(LIMIT) : slot;
         }
 
         /** The slot of a NAME that means a value; NONE with VALUE. */
         private int valueSlot(int token) {
             int slot = slotOf(token);
-            return places.meansAt(slot) == A_VALUE ? slot : state.raise(VALUE) - 1;
+            return places.meansAt(slot) == A_VALUE ? slot : state.refuse(VALUE);
         }
 
         private void give(int slot, int value) {
@@ -2991,9 +2997,9 @@ public final class ArrayHouse {
         /** Whether the VALUE has COUNT 1, or the extents in shape. */
         private boolean suits(int value, int rank) {
             if (heap.count(value) == 1) return true;
-            if (heap.rank(value) != rank) return state.raise(RANK) != 0;
+            if (heap.rank(value) != rank) return state.fail(RANK);
             for (int k = 0; k < rank; k++) {
-                if (heap.wide(value, k) != peek(heap.shape, k)) return state.raise(LENGTH) != 0;
+                if (heap.wide(value, k) != peek(heap.shape, k)) return state.fail(LENGTH);
             }
             return true;
         }
