@@ -100,6 +100,15 @@ public final class LanguageTest {
         shows("rho 'a'", "");
         shows("rho 'ab'", "2");
         shows("1 # 2 ; 3\n4", "1|4");
+        StringBuilder many = new StringBuilder();
+        for (int i = 0; i < 1000; i++) many.append('a');
+        shows("rho '" + many + "'", "1000");
+        fails("'" + many + "a'", LIMIT);
+        House.spends("'" + many + "a'", 2);
+        shows("rho " + ones(1000), "1000");
+        fails("rho " + ones(1001), LIMIT);
+        House.spends(ones(1000), 1 + 1000 + 1000);
+        House.spends(ones(1001), 1 + 1001);
         shows("'#' , '1' ; '~' ; '! ~'", "#1|~|! ~");
         shows("1+2", "3");
         shows("3<=3", "1");
