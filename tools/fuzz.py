@@ -1,6 +1,7 @@
 """Random texts: the program against oracle.py. From the project's root:
     mkdir -p /tmp/fuzz && javac -d /tmp/fuzz src/main/java/ArrayHouse.java tools/Drive.java
-    python3 tools/fuzz.py SEED SESSIONS [g|b|s|B|C]     (sentences, balanced tokens, token soup, great values, CALLS)
+    python3 tools/fuzz.py SEED SESSIONS [g|b|s|B|C|L]   (sentences, balanced tokens, token soup, great values, CALLS,
+                                                         long loops with GUARDS)
 """
 import sys,random,subprocess,os,time
 sys.path.insert(0,os.path.dirname(os.path.abspath(__file__)))
@@ -181,6 +182,31 @@ def calls(r,g):
     t=r.choice(['','','1 ','x '])+'{'+body(2)+'}'+r.choice(['','','','"','/'])+' '+r.choice(['0','1','2 3','x','y'])
     g.inb-=1
     return r.choice(['','q := ','','f := g ; '])+t+r.choice(['',' ; v',' ; x ; f 1'])
+GREAT=["1 1 1 1 1 1 rho enc 1 2","1000 rho 'ab'","500 rho enc 1 2","1000 rho enc 0 0 0 0 0 0 rho 0","333 rho enc 1 2","10 10 10 rho iota 1000","500 0 rho 0","1 1 rho enc 1 2","enc enc enc 1 2","1000 rho 0","31 32 rho 1r2","(iota 400) (300 rho 'x') (enc 200 rho 1)","0 rho enc 400 rho 0","'"+'q'*300+"'","1000 1 rho 1","1 1000 rho 1"]
+def loops(r,g):
+    g.inb+=1
+    d=r.choice([0,1,1,2])
+    def step():
+        q=r.random()
+        if q<.25: return g.expr(d)
+        if q<.35: return r.choice(['x','y','a'])+'['+r.choice(['i','1','j','','1 1 1','i;i','i;i;i;i;i;i',';;;;;',';','i;'])+']'
+        if q<.45: return r.choice(['x','y','a','v'])+' := '+r.choice(['+ x','x','y , x','right','y','v','rev x','x + y','(x) (y)','enc a',"'"+'s'*r.choice([1,2,300,1000])+"'"])
+        if q<.52: return r.choice(['x','y'])+'['+r.choice(['i','1','','1;1',';'])+'] := '+r.choice(['right','5','y','x'])
+        if q<.58: return '('+r.choice(['1 take x','rev y','1 drop a',', x','first y'])+') := '+r.choice(['right','5','y','x'])
+        if q<.66: return r.choice(['0','1','right','0 = tally right',"'"+'s'*r.choice([1,200,1000])+"'",'x','y'])+' : '+r.choice(['right','x','v','y'])
+        if q<.74: return r.choice(['0','5 7','4','7 3','3 5','1 2'])+' :: '+r.choice(['right','x','0','y , x','v',"'"+'t'*r.choice([1,500])+"'"])
+        if q<.80: return '{'+'; '.join(step() for _ in range(r.choice([1,2])))+'} '+r.choice(['x','y','right','a'])
+        if q<.84: return "exe '"+r.choice(['x := y','right , x','y','v := x ; 1',"''"+'u'*r.choice([2,400])+"'' , y",'f := ,','x x x','f x'])+"'"
+        if q<.88: return r.choice(['f','g','{right , x}','{x ; right}','self'])+r.choice([' ','/','"',' rank 1 ',' rank 0 ','\\',' pow 3 ','[1]'])+r.choice(['right','x','y','a'])
+        return r.choice(['mix x','mix x y','split x','x + y','+ x','- y','y , x','x , x , x','1000 rho x','x @ y','x +@ y','x , @ y','enc right','fmt x','iota 10 11','iota 1000','where y','x match y','up x','tr a','5 take x','_900 take y','x + . + y','y ,/ x','enc enc enc x','x part y','uniq x','enl x','{enc right} key x','+/ x','+\\ x','{right}/ a','2 3 rep x'])
+    parts=[]
+    if r.random()<.85: parts.append(r.choice(['0','0','3 4 5 7','7','5 3','4 7'])+' :: '+r.choice(['right','0','x','y','1 , 0']))
+    for _ in range(r.choice([1,1,2,2,3,4])): parts.append(step())
+    g.inb-=1
+    ini=['%s := %s'%(n,r.choice(GREAT)) for n in 'xya' if r.random()<.7]+['i := '+r.choice(['1 1 1','1 1','iota 100','1','1000 rho 1']),'v := 0']
+    if r.random()<.4: ini.append('f := '+r.choice(["+ rank '"+'a'*r.choice([2,600])+"'",'{'+step()+'}','+ rank 1','{'+step()+'} rank 0',', pow (2)','{right , '+"'"+'b'*r.choice([2,400])+"'}"]))
+    n=r.choice(['5','40','200','1000','5000'])
+    return ' ; '.join(ini)+' ; '+r.choice(['z := ','',''])+r.choice(['({%s} pow %s) %s','{%s}" %s rho %s','({%s} rank 0) %s rho %s','%.0s(f pow %s) %s','0 {%s}~ pow %s %s','{%s}/ %s rho %s'])%('; '.join(parts),n if True else '',r.choice(['0','x','y','1 2','i']))+r.choice(['',' ; x ; y',' ; v'])
 def session(r,mode):
     g=G(r); texts=[]
     ini=[i for i in INIT if r.random()<.45]; r.shuffle(ini)
@@ -194,6 +220,7 @@ def session(r,mode):
         elif m=='b': t=balanced_soup(r)
         elif m=='B': t=big(r,g)
         elif m=='C': t=calls(r,g)
+        elif m=='L': t=loops(r,g)
         else: t=soup(r)
         texts.append(t[:4000])
     return texts

@@ -155,7 +155,7 @@ public final class ArrayHouse {
     private final State state = new State();
     private final Heap heap = new Heap(state);
     private final Text text = new Text();
-    private final Places places = new Places();
+    private final Places places = new Places(state, heap, text);
     private final Writer screen = new Writer(heap, SHOWN_LIMIT);
     private final Reader reader;
     private final byte[] tape = new byte[TAPE_LIMIT];
@@ -166,7 +166,7 @@ public final class ArrayHouse {
 
     public ArrayHouse() {
         Shapes shapes = new Shapes(state, heap);
-        Operators operators = new Operators(state, heap, shapes);
+        Operators operators = new Operators(state, heap, places, shapes);
         reader = new Reader(state, heap, text, places, shapes, operators);
         operators.reader = reader;
     }
@@ -205,26 +205,24 @@ public final class ArrayHouse {
         int first = text.count;
         int fault = text.scan(from);
         if (fault >= 0) return -10 - (fault - from);
-        reader.place = 0;
-        places.deepest = 0;
         statements(first, text.count);
         return state.event;
     }
 
     /** What the HOUSE means is all that a run leaves: it is packed, so that the rest can be used again. */
     private void keepHouse() {
-        heap.spareTop = FIRST;
+        reader.place = 0;
+        places.deepest = 0;
+        places.guardCount = 0;
+        places.pack(FIRST, 0);
         text.keptLength = 0;
         for (int s = 0; s < HOUSE_NAMES; s++) {
+            if (places.meansAt(s) != A_FUNCTION) continue;
             int from = peek(places.from, s);
             int to = peek(places.to, s);
-            if (places.meansAt(s) == A_VALUE) poke(places.from, s, heap.moved(from));
-            if (places.meansAt(s) == A_FUNCTION) {
-                poke(places.from, s, text.keptLength);
-                poke(places.to, s, text.keep(from, to));
-            }
+            poke(places.from, s, text.keptLength);
+            poke(places.to, s, text.keep(from, to));
         }
-        heap.settle();
         text.length = 0;
         text.count = 0;
         for (int s = 0; s < HOUSE_NAMES; s++) {
@@ -241,6 +239,7 @@ public final class ArrayHouse {
         int lo = first;
         for (int number = 0; lo <= last && state.event == 0; number++) {
             int hi = text.statementEnd(lo, last);
+            int base = heap.top;
             int value = lo < hi && state.spend(1) ? reader.phrase(lo, hi, 0) : 0;
             if (value != 0 && !heap.isValue(value)) state.raise(SYNTAX);
             if (state.event != 0) {
@@ -249,6 +248,7 @@ public final class ArrayHouse {
                 screen.write(value);
                 screen.add('\n');
             }
+            places.keep(base, 0);
             lo = hi + 1;
         }
     }
@@ -504,7 +504,8 @@ public final class ArrayHouse {
 
     /** All values, nodes of functions and lists lie in one row of words; a handle is the place of the first one. */
     private static final class Heap {
-        private static final int WORDS_LIMIT = 1600000;
+        /** More than a run can need: of the HOUSE 60 times 1000 parts of 14 words, and 29 for each STEP. */
+        private static final int WORDS_LIMIT = 2000000;
         private static final int COUNT = 1;
         private static final int SIZE = 2;
         private static final int DEPTH = 3;
@@ -516,7 +517,8 @@ public final class ArrayHouse {
         private int[] words = new int[4096];
         private int[] spare = new int[1024];
         private int top = FIRST;
-        private int spareTop = FIRST;
+        private int spareTop;
+        private int base = FIRST;
         private int fillN;
         private int fillD = 1;
 
@@ -538,7 +540,7 @@ public final class ArrayHouse {
                 return 0;
             }
             int length = words.length;
-            if (top + n > length) words = Arrays.copyOf(words, Math.max(top + n, Math.min(WORDS_LIMIT, 2 * length)));
+            if (top + n > length) words = Arrays.copyOf(words, Math.max(top + n, Math.min(WORDS_LIMIT, 4 * length)));
             int h = top;
             top += n;
             return h;
@@ -845,34 +847,41 @@ public final class ArrayHouse {
             return n >= -32768 && n <= 32767 ? 3 : 4;
         }
 
-        /** Copies a value, and what is in its boxes, into the spare row, each once; the new handle. */
+        /** From now on, till settle, what was made from there on is moved, or lost. */
+        private void unsettle(int from) {
+            base = Math.max(FIRST, from);
+            spareTop = 0;
+        }
+
+        /** Copies a value, and what is in its boxes, into the spare row, each once; the handle that it will have. */
         private int moved(int v) {
+            if (v < base) return v;
             if (look(v) == MOVED) return look(v + 1);
             int items = Math.max(1, count(v));
-            int length = WIDE + rank(v) + 2 * items;
-            int h = spareTop;
-            if (v < FIRST || v > words.length - length || length < 0) return 0;
-            if (h + length > spare.length) spare = Arrays.copyOf(spare, Math.max(h + length, 2 * spare.length));
-            System.arraycopy(words, v, spare, h, length);
+            int first = WIDE + rank(v);
+            int length = first + 2 * items;
+            int at = spareTop;
+            if (length < 0 || v > words.length - length) return 0;
+            if (at + length > spare.length) spare = Arrays.copyOf(spare, Math.max(at + length, 4 * spare.length));
+            System.arraycopy(words, v, spare, at, length);
             spareTop += length;
-            int base = WIDE + rank(v);
             put(v, MOVED);
-            put(v + 1, h);
+            put(v + 1, base + at);
             for (int i = 0; i < items; i++) {
-                int p = h + base + 2 * i;
+                int p = at + first + 2 * i;
                 if (peek(spare, p + 1) != BOX) continue;
                 // this may make the spare row anew, so it comes ahead of it
                 int inside = moved(peek(spare, p));
                 poke(spare, p, inside);
             }
-            return h;
+            return base + at;
         }
 
-        /** What was copied is all there is. */
+        /** Of what was made from base on, what was moved is all there is. */
         private void settle() {
-            if (spareTop > spare.length || spareTop > words.length) return;
-            System.arraycopy(spare, FIRST, words, FIRST, spareTop - FIRST);
-            top = spareTop;
+            if (spareTop > spare.length || spareTop > words.length - base) return;
+            System.arraycopy(spare, 0, words, base, spareTop);
+            top = base + spareTop;
         }
     }
 
@@ -892,6 +901,8 @@ public final class ArrayHouse {
         private int count;
         private int keptLength;
         private int innermost;
+        /** The QUOTED whose value was made last; its B tells the one ahead of it. */
+        private int lastMade = NONE;
 
         private void add(int c) {
             if (length >= bytes.length) bytes = Arrays.copyOf(bytes, 2 * bytes.length);
@@ -1107,6 +1118,22 @@ public final class ArrayHouse {
             return true;
         }
 
+        /** A QUOTED has its value in A once it was made, so that it is made once however often it is met. */
+        private void made(int token, int value) {
+            putField(token, A, value);
+            putField(token, B, lastMade);
+            lastMade = token;
+        }
+
+        /** The values of QUOTED that were made from base on are lost: they lie in the order of their making. */
+        private void unmake(int base) {
+            for (int turns = count; turns > 0 && lastMade >= 0 && field(lastMade, A) >= base; turns--) {
+                int before = field(lastMade, B);
+                putField(lastMade, A, 0);
+                lastMade = before;
+            }
+        }
+
         /** How many bytes the TOKENS from..to take up in their text. */
         private int span(int from, int to) {
             return field(to - 1, END) - field(from, START);
@@ -1130,10 +1157,17 @@ public final class ArrayHouse {
         }
     }
 
-    /** NAMES and what they mean, in the HOUSE (place 0) and in each CALL that is open. */
+    /** NAMES and what they mean, in the HOUSE (place 0) and in each CALL that is open: all else is lost in the end. */
     private static final class Places {
         private static final int SLOTS = HOUSE_NAMES + OPEN_LIMIT * CALL_NAMES;
+        private static final int GUARD_WORDS = 3;
+        /** So many words may lie about, besides some for each part of what is kept, till they are used again. */
+        private static final int SLACK = 256;
+        private static final int SLACK_EACH = 4;
 
+        private final State state;
+        private final Heap heap;
+        private final Text text;
         private final int[] nameA = new int[SLOTS];
         private final int[] nameB = new int[SLOTS];
         private final int[] means = new int[SLOTS];
@@ -1144,8 +1178,16 @@ public final class ArrayHouse {
         private final int[] left = new int[OPEN_LIMIT + 1];
         private final int[] right = new int[OPEN_LIMIT + 1];
         private final int[] self = new int[OPEN_LIMIT + 1];
-        private final int[] guards = new int[OPEN_LIMIT + 1];
+        /** GUARDS of all CALLS that are open, those of the latest one last: their EVENTS in bits, from..to of p. */
+        private int[] guards = new int[GUARD_WORDS * OPEN_LIMIT];
+        private int guardCount;
         private int deepest;
+
+        private Places(State state, Heap heap, Text text) {
+            this.state = state;
+            this.heap = heap;
+            this.text = text;
+        }
 
         private int meansAt(int slot) {
             return peek(means, slot);
@@ -1212,8 +1254,45 @@ public final class ArrayHouse {
             poke(left, place, a);
             poke(right, place, w);
             poke(self, place, f);
-            poke(guards, place, 0);
             return place;
+        }
+
+        private void addGuard(int events, int lo, int hi) {
+            int p = GUARD_WORDS * guardCount;
+            if (p + GUARD_WORDS > guards.length) guards = Arrays.copyOf(guards, 2 * guards.length);
+            guardCount++;
+            poke(guards, p, events);
+            poke(guards, p + 1, lo);
+            poke(guards, p + 2, hi);
+        }
+
+        private int guardField(int guard, int which) {
+            return peek(guards, GUARD_WORDS * guard + which);
+        }
+
+        /**
+         * Of what was made from base on, only the value (0 for none) and what NAMES mean are needed any more: the
+         * value's handle from now on. What was made ahead of base must not hold anything that was made behind it.
+         */
+        private int keep(int base, int value) {
+            if (state.event != 0 || heap.top - base < SLACK + SLACK_EACH * heap.size(value)) return value;
+            return pack(base, value);
+        }
+
+        /** Likewise, however little there is. */
+        private int pack(int base, int value) {
+            heap.unsettle(base);
+            int kept = heap.moved(value);
+            for (int p = 0; p <= deepest; p++) {
+                int first = firstSlot(p);
+                int end = first + peek(used, p);
+                for (int s = first; s < end; s++) {
+                    if (meansAt(s) == A_VALUE) poke(from, s, heap.moved(peek(from, s)));
+                }
+            }
+            text.unmake(base);
+            heap.settle();
+            return kept;
         }
     }
 
@@ -2211,12 +2290,14 @@ public final class ArrayHouse {
 
         private final State state;
         private final Heap heap;
+        private final Places places;
         private final Shapes shapes;
         private Reader reader;
 
-        private Operators(State state, Heap heap, Shapes shapes) {
+        private Operators(State state, Heap heap, Places places, Shapes shapes) {
             this.state = state;
             this.heap = heap;
+            this.places = places;
             this.shapes = shapes;
         }
 
@@ -2266,9 +2347,10 @@ public final class ArrayHouse {
         /** Of n items from there on, so far apart: the last one, then f of those ahead and what there is. */
         private int fold(int f, int w, int first, int apart, int n) {
             if (n == 0) return heap.scalar(unit(f), 1);
+            int base = heap.top;
             int value = heap.opened(w, first + (n - 1) * apart);
             for (int i = n - 2; i >= 0 && state.event == 0; i--) {
-                value = apply(f, heap.opened(w, first + i * apart), value);
+                value = places.keep(base, apply(f, heap.opened(w, first + i * apart), value));
             }
             return value;
         }
@@ -2336,9 +2418,10 @@ public final class ArrayHouse {
             int r = heap.like(w);
             if (!ready(f, r, 1)) return 0;
             for (int i = 0; i < heap.count(r); i++) {
+                int base = heap.top;
                 int value = apply(f, 0, heap.opened(w, i));
                 if (state.event != 0) return 0;
-                heap.putBoxed(r, i, value);
+                heap.putBoxed(r, i, places.keep(base, value));
             }
             return heap.seal(r);
         }
@@ -2349,9 +2432,10 @@ public final class ArrayHouse {
             int r = heap.like(mode == 1 ? w : a);
             if (!ready(f, r, 1)) return 0;
             for (int i = 0; i < heap.count(r); i++) {
+                int base = heap.top;
                 int value = apply(f, heap.opened(a, mode == 1 ? 0 : i), heap.opened(w, mode == 2 ? 0 : i));
                 if (state.event != 0) return 0;
-                heap.putBoxed(r, i, value);
+                heap.putBoxed(r, i, places.keep(base, value));
             }
             return heap.seal(r);
         }
@@ -2364,9 +2448,10 @@ public final class ArrayHouse {
             if (!ready(f, r, 1)) return 0;
             int apart = Math.max(1, heap.count(w));
             for (int t = 0; t < heap.count(r); t++) {
+                int base = heap.top;
                 int value = apply(f, heap.opened(a, t / apart), heap.opened(w, t % apart));
                 if (state.event != 0) return 0;
-                heap.putBoxed(r, t, value);
+                heap.putBoxed(r, t, places.keep(base, value));
             }
             return heap.seal(r);
         }
@@ -2385,6 +2470,7 @@ public final class ArrayHouse {
             if (!ready(f, r, n)) return 0;
             int columns = heap.inner(w, 0);
             for (int t = 0; t < heap.count(r); t++) {
+                int base = heap.top;
                 int list = heap.grab(n);
                 for (int k = 0; k < n && list != 0; k++) {
                     int i = ra == 0 ? 0 : t / columns * ea + (ea == 1 ? 0 : k);
@@ -2393,9 +2479,12 @@ public final class ArrayHouse {
                     if (state.event != 0) return 0;
                 }
                 int value = n == 0 ? heap.scalar(unit(f), 1) : heap.look(list + n - 1);
-                for (int k = n - 2; k >= 0 && state.event == 0; k--) value = apply(f, heap.look(list + k), value);
+                int behind = heap.top;
+                for (int k = n - 2; k >= 0 && state.event == 0; k--) {
+                    value = places.keep(behind, apply(f, heap.look(list + k), value));
+                }
                 if (state.event != 0) return 0;
-                heap.putBoxed(r, t, value);
+                heap.putBoxed(r, t, places.keep(base, value));
             }
             return heap.seal(r);
         }
@@ -2417,10 +2506,11 @@ public final class ArrayHouse {
             if (!ready(f, r, 1)) return 0;
             if (heap.count(r) == 0) return heap.seal(r);
             for (int i = 0; i < heap.count(r); i++) {
+                int base = heap.top;
                 int left = a == 0 ? 0 : cell(a, ofA, i);
                 int value = apply(f, left, cell(w, ofW, i));
                 if (state.event != 0) return 0;
-                heap.putBoxed(r, i, value);
+                heap.putBoxed(r, i, places.keep(base, value));
             }
             return shapes.mix(r);
         }
@@ -2447,8 +2537,9 @@ public final class ArrayHouse {
             if (heap.count(k) != 1) return state.raise(LENGTH);
             if (!heap.wholes(k, 0, GREATEST)) return state.raise(DOMAIN);
             int times = Math.min(heap.num(k, 0), STEP_LIMIT + 1);
+            int base = heap.top;
             int value = w;
-            for (int i = 0; i < times && state.event == 0; i++) value = apply(f, a, value);
+            for (int i = 0; i < times && state.event == 0; i++) value = places.keep(base, apply(f, a, value));
             return value;
         }
 
@@ -2471,9 +2562,10 @@ public final class ArrayHouse {
             int done = 0;
             for (int i = 0; i < n; i++) {
                 if (heap.look(groups + i) != i) continue;
+                int base = heap.top;
                 int value = apply(f, heap.opened(keys, i), members(groups, i, n, a == 0 ? 0 : w));
                 if (state.event != 0) return 0;
-                heap.putBoxed(r, done++, value);
+                heap.putBoxed(r, done++, places.keep(base, value));
             }
             return shapes.mix(r);
         }
@@ -2685,6 +2777,14 @@ public final class ArrayHouse {
         }
 
         private int quoted(int token) {
+            int made = text.field(token, Text.A);
+            if (made != 0) return made;
+            int value = signs(token);
+            if (value != 0) text.made(token, value);
+            return value;
+        }
+
+        private int signs(int token) {
             int first = text.field(token, Text.START) + 1;
             int end = text.field(token, Text.END) - 1;
             int n = 0;
@@ -2720,16 +2820,19 @@ public final class ArrayHouse {
             if (!state.spend(1)) return 0;
             if (open + 1 >= hi - 1) return state.raise(VALUE);
             if (!state.enter()) return 0;
+            int base = heap.top;
             int value = phrase(open + 1, hi - 1, 0);
             state.leave();
             mark = open;
-            return value == 0 ? state.raise(VALUE) : value;
+            if (value == 0) return state.raise(VALUE);
+            return heap.isValue(value) ? places.keep(base, value) : value;
         }
 
         /** A [ ] and what is ahead of it: an AXIS, or INDICES. */
         private int bracket(int lo, int hi) {
             int open = text.partner(hi - 1);
             if (!state.enter()) return 0;
+            int base = heap.top;
             int list = indices(open + 1, hi - 1);
             if (state.event != 0) return 0;
             int type = open > lo ? text.type(open - 1) : 0;
@@ -2748,7 +2851,7 @@ public final class ArrayHouse {
             if (!heap.isValue(x)) return state.raise(SYNTAX);
             int value = choose(x, list);
             state.leave();
-            return value;
+            return places.keep(base, value);
         }
 
         private boolean takesAxis(int type) {
@@ -3065,13 +3168,11 @@ public final class ArrayHouse {
             int head = heap.look(f);
             int value = 0;
             if (head == PRIM) {
-                int top = heap.top;
                 value = primitive(heap.look(f + 1), heap.look(f + 2), a, w);
-                // what was made on the way to an event is lost, and its room is used again
-                if (state.event != 0 && heap.look(f + 1) != EXE) heap.top = top;
             } else {
                 if (!state.enter()) return 0;
-                value = head == BRACE ? call(f, a, w) : operators.made(f, a, w);
+                int base = heap.top;
+                value = places.keep(base, head == BRACE ? call(f, a, w) : operators.made(f, a, w));
                 state.leave();
             }
             if (state.event != 0) return 0;
@@ -3145,9 +3246,10 @@ public final class ArrayHouse {
             }
             int value = 0;
             int last = text.count;
+            int base = heap.top;
             for (int lo = first; lo <= last && state.event == 0; lo++) {
                 int hi = text.statementEnd(lo, last);
-                if (lo < hi && state.spend(1)) value = checked(phrase(lo, hi, 0));
+                if (lo < hi && state.spend(1)) value = places.keep(base, checked(phrase(lo, hi, 0)));
                 lo = hi;
             }
             state.leave();
@@ -3159,17 +3261,22 @@ public final class ArrayHouse {
             if (mine < 0) return state.raise(LIMIT);
             int here = place;
             int open = state.open;
+            int base = heap.top;
+            int guards = places.guardCount;
             place = mine;
             int value = body(heap.look(f + 1));
-            for (int guard = peek(places.guards, mine); guard != 0 && takeable(); guard = heap.look(guard + 3)) {
-                int mask = heap.look(guard);
-                if ((mask & 1) == 0 && (mask >> state.event & 1) == 0) continue;
+            for (int guard = places.guardCount - 1; guard >= guards && takeable(); guard--) {
+                int events = places.guardField(guard, 0);
+                if ((events & 1) == 0 && (events >> state.event & 1) == 0) continue;
                 state.event = 0;
                 state.open = open;
                 places.deepest = mine;
+                places.guardCount = guard;
                 place = mine;
-                value = needed(phrase(heap.look(guard + 1), heap.look(guard + 2), 0));
+                places.keep(base, 0);
+                value = needed(phrase(places.guardField(guard, 1), places.guardField(guard, 2), 0));
             }
+            places.guardCount = guards;
             places.deepest = mine - 1;
             place = here;
             return value;
@@ -3184,8 +3291,10 @@ public final class ArrayHouse {
             int end = text.partner(open);
             for (int lo = open + 1; lo <= end; lo++) {
                 int hi = text.statementEnd(lo, end);
+                int base = heap.top;
                 int value = lo < hi ? clause(lo, hi) : 0;
                 if (value != 0 || state.event != 0) return value;
+                places.keep(base, 0);
                 lo = hi;
             }
             return state.raise(VALUE);
@@ -3217,8 +3326,7 @@ public final class ArrayHouse {
             }
             int mask = 0;
             for (int i = 0; i < heap.count(events); i++) mask |= 1 << heap.num(events, i);
-            int node = heap.node(mask, lo, hi, peek(places.guards, place));
-            poke(places.guards, place, node);
+            places.addGuard(mask, lo, hi);
         }
     }
 }
