@@ -1,11 +1,26 @@
 import java.nio.charset.StandardCharsets;
+import java.util.ArrayList;
+import java.util.List;
 
 /** What the project's own tests share: an ArrayHouse that is spoken to in texts, and the counting of what is wrong. */
-final class House {
+class House {
+    static final int SYNTAX = 1;
+    static final int VALUE = 2;
+    static final int RANK = 3;
+    static final int LENGTH = 4;
+    static final int DOMAIN = 5;
+    static final int INDEX = 6;
+    static final int LIMIT = 7;
+    static final int STEPS = 8;
+
     static int wrong = 0;
     static int checks = 0;
 
+    /** So many bytes are read of one object: beyond 512 calls its answers are free. */
+    private static final int READ = 250;
+
     final ArrayHouse h = new ArrayHouse();
+    private final List<String> texts = new ArrayList<>();
 
     /** Puts a text on THE TAPE. */
     House tape(String text) {
@@ -24,13 +39,26 @@ final class House {
     }
 
     int run(String text) {
+        texts.add(text);
         return tape(text).h.run();
     }
 
+    /** What is SHOWN; of much the later bytes are read of others that were told the same texts. */
     String shown() {
         StringBuilder s = new StringBuilder();
-        for (int i = 0; i < h.shown(); i++) s.append((char) h.byteAt(i));
+        House x = this;
+        int n = h.shown();
+        for (int i = 0; i < n; i++) {
+            if (i > 0 && i % READ == 0) x = again();
+            s.append((char) x.h.byteAt(i));
+        }
         return s.toString();
+    }
+
+    private House again() {
+        House x = new House();
+        for (String text : texts) x.run(text);
+        return x;
     }
 
     int view(String name) {
@@ -67,6 +95,45 @@ final class House {
         House x = new House();
         x.run(text);
         due(text + "  (steps)", x.h.steps(), steps);
+    }
+
+    /** A text on a new object: its EVENT, or 0, and the STEPS that it spends. */
+    static void ends(String text, int event, int steps) {
+        House x = new House();
+        due(text, x.run(text), event);
+        due(text + "  (steps)", x.h.steps(), steps);
+    }
+
+    /** A text on a new object that has a FAULT at that place. */
+    static void fault(String text, int place) {
+        House x = new House();
+        due("FAULT " + text, x.run(text), -10 - place);
+        due("STEPS of a FAULT " + text, x.h.steps(), 0);
+    }
+
+    /** What a text on a new object gives q is EMPTY, with these extents and this FILL (as fmt has it, BOXED). */
+    static void empty(String text, String extents, String fill) {
+        House x = new House();
+        due(text, x.run(text), 0);
+        x.view("q");
+        due(text + "  (COUNT)", x.h.about(1), 0);
+        due(text + "  (extents)", x.run("rho q"), 0);
+        due(text + "  (extents)", x.shown(), extents + "\n");
+        due(text + "  (FILL)", x.run("enc first q"), 0);
+        due(text + "  (FILL)", x.shown(), fill + "\n");
+    }
+
+    /** RANK, COUNT, SIZE and DEPTH of what a text on a new object gives q. */
+    static void about(String text, int rank, int count, int size, int depth) {
+        House x = new House();
+        due(text, x.run(text), 0);
+        due(text + "  (view)", x.view("q"), rank);
+        int[] want = {rank, count, size, depth};
+        for (int i = 0; i < want.length; i++) due(text + "  (about " + i + ")", x.h.about(i), want[i]);
+    }
+
+    static String many(String s, int n) {
+        return s.repeat(n);
     }
 
     static void end() {
