@@ -39,6 +39,7 @@ public final class FunctionEdgesTest extends House {
         decode();
         deal();
         format();
+        emptyOfBoxes();
         noStaleExtents();
         end();
     }
@@ -289,6 +290,9 @@ public final class FunctionEdgesTest extends House {
         shows("1 2 rot 2 3 rho iota 6 ; 0 1 2 rot[1] 2 3 rho iota 6 ; 1 rot[1] 2 3 rho iota 6", "[2 3]2 3 1 6 4 5|[2 3]1 5 3 4 2 6|[2 3]4 5 6 1 2 3");
         shows("(2 2 rho 0 1 1 0) rot 2 2 2 rho iota 8 ; (2 2 rho 0 1 1 0) rot[1] 2 2 2 rho iota 8 ; (2 2 rho 0 1 1 0) rot[2] 2 2 2 rho iota 8",
             "[2 2 2]1 2 4 3 6 5 7 8|[2 2 2]1 6 7 4 5 2 3 8|[2 2 2]1 4 3 2 7 6 5 8");
+        shows("rho (3 4 rho 0) rot[1] 2 3 4 rho 1 ; rho (2 4 rho 0) rot[2] 2 3 4 rho 1 ; rho (2 3 rho 0) rot 2 3 4 rho 1", "2 3 4|2 3 4|2 3 4");
+        fails("(3 3 rho 0) rot[1] 2 3 4 rho 1", LENGTH);
+        fails("(2 3 rho 0) rot[2] 2 3 4 rho 1", LENGTH);
         // "W of RANK 0 wants A of RANK 0: W"
         shows("3 rot 5 ; _3 rot enc 1 2 ; 3 rot , 5", "5|(1 2)|5");
         fails("(, 1) rot 5", RANK);
@@ -321,6 +325,7 @@ public final class FunctionEdgesTest extends House {
         shows("1 tr 1 2 ; (0 rho 0) tr 5 ; '' tr enc 1 2 ; 1 2 tr 2 3 rho iota 6 ; 2 1 tr 2 3 rho iota 6", "1 2|5|(1 2)|[2 3]1 2 3 4 5 6|[3 2]1 4 2 5 3 6");
         shows("1 1 tr 2 3 rho iota 6 ; 1 1 tr 3 2 rho iota 6 ; rho 2 3 1 tr 2 3 4 rho 1 ; rho 3 1 2 tr 2 3 4 rho 1", "1 5|1 4|4 2 3|3 4 2");
         shows("rho 1 1 1 tr 2 3 4 rho 1 ; rho 2 1 2 tr 2 3 4 rho 1 ; rho 1 2 1 tr 2 3 4 rho 1 ; 1 1 1 tr 2 2 2 rho iota 8", "2|3 2|2 3|1 8");
+        shows("rho 1 1 2 tr 2 3 4 rho 1 ; rho 2 1 1 tr 2 3 4 rho 1 ; rho 1 1 2 2 tr 2 3 4 5 rho 1", "2 4|3 2|2 4");
         shows("x := 2 3 4 rho iota 24 ; y := 1 1 1 rho 1 ; rho 3 2 1 tr x ; (3 2 1 tr x) match tr x", "4 3 2|1");
         fails("1 2 tr 1 2", LENGTH);
         fails("1 tr 5", LENGTH);
@@ -542,6 +547,8 @@ public final class FunctionEdgesTest extends House {
         // "A of lesser RANK gets extents of 1 ahead; of a greater one all are 0"
         shows("1 2 find 2 2 rho 1 2 1 2 ; 1 2 find 2 2 rho 3 1 2 9 ; 5 find 2 2 rho 5 1 ; (1 2 rho 1) find 1 1 ; (, 5) find 5 ; (2 2 rho 1) find 2 2 2 rho 1",
             "[2 2]1 0 1 0|[2 2]0 0 0 0|[2 2]1 0 1 0|0 0|0|[2 2 2]1 0 0 0 1 0 0 0");
+        shows("1 2 3 find 2 3 rho iota 6 ; 4 5 find 2 3 rho iota 6 ; 2 3 find 3 2 rho iota 6 ; 3 4 find 3 2 rho iota 6 ; 5 6 find 1 2 3 rho iota 6",
+            "[2 3]1 0 0 0 0 0|[2 3]0 0 0 1 0 0|[3 2]0 0 0 0 0 0|[3 2]0 0 1 0 0 0|[1 2 3]0 0 0 0 1 0");
         shows("5 find 5 ; 5 find 6 ; (enc 1 2) find (1 2) 3 ; (1 2) 3 find 3 (1 2) 3 ; 2 1 find 1 2 1", "1|0|1 0|0 1 0|0 1 0");
         // "(an EMPTY A: where its extents go into W from there)"
         shows("'' find 'ab' ; (0 rho 1) find 'ab' ; (3 0 rho 1) find 3 2 rho 1 ; (0 2 rho 1) find 2 2 rho 1 ; (2 0 rho 1) find 1 2 rho 1 ; (0 3 rho 1) find 2 2 rho 1 ; '' find 5",
@@ -554,6 +561,7 @@ public final class FunctionEdgesTest extends House {
     private static void pick() {
         shows("2 pick 4 5 6 ; (, 2) pick 4 5 6 ; 2 1 pick 1 (5 6) ; (enc 1 2) pick 2 2 rho 7 8 9 1 ; ((1 2) 1) pick 2 2 rho 7 (8 9)", "5|5|5|8|8");
         shows("(0 rho 0) pick 5 6 ; '' pick 5 ; 1 pick (1 2) 3 ; rho 1 pick , 5 ; (enc , 1) pick 7 8", "5 6|5|1 2||7");
+        shows("(enc 2 1) pick 2 3 rho iota 6 ; (enc 2 3) pick 2 3 rho iota 6 ; (enc 2 1 2) pick 2 2 2 rho iota 8 ; (enc 1 3 2) pick 1 3 4 rho iota 12", "4|6|6|10");
         shows("(enc '') pick 5 ; (enc '') pick enc 1 2 ; (2 rho enc '') pick enc enc 1 2 ; ((enc '') , 2) pick enc 7 8", "5|1 2|1 2|8");
         fails("1 pick 5", RANK);
         fails("1 1 pick 5 6", RANK);
@@ -694,6 +702,34 @@ public final class FunctionEdgesTest extends House {
         due("SHOWN however long it is", x.h.shown(), 8000);
         due("fmt behind what was too long", x.run("fmt 12"), 0);
         due("fmt behind what was too long", x.shown(), "12\n");
+    }
+
+    /** An EMPTY vector has no item that could be wrong, whatever its FILL. */
+    private static void emptyOfBoxes() {
+        String e = "e := 0 rho enc 1 2 ; ";
+        shows(e + "e rho 5 6 ; e take 5 6 ; e drop 5 6 ; e tr 5 ; e pick 5 6 ; depth iota e ; e deco e ; 7 deco e ; tally e enco 5 ; e match 0 rho enc 3 4",
+            "5|5 6|5 6|5|5 6|2|0|0|0|1");
+        empty(e + "q := e rep 'a'", "0", " ");
+        empty(e + "q := e expand ''", "0", " ");
+        empty(e + "q := e part ''", "0", "()");
+        empty(e + "q := e penc e", "0", "()");
+        empty(e + "q := 2 enco e", "0", "(0 0)");
+        empty(e + "q := where e", "0", "0");
+        empty(e + "q := fmt e", "0", " ");
+        empty(e + "q := 'abc'[e]", "0", " ");
+        empty(e + "q := e without 5", "0", "(0 0)");
+        fails(e + "e ? 5", LENGTH);
+        fails(e + "5 ? e", LENGTH);
+        fails("(0 rho enc '') ? 5", LENGTH);
+        fails("1 ? 0 rho enc ''", LENGTH);
+        fails(e + "rev[e] 1 2", LENGTH);
+        fails(e + "rev[0 rho enc ''] 1 2", LENGTH);
+        fails(e + "+ rank (0 rho enc '') 5", LENGTH);
+        fails(e + "+ pow (0 rho enc '') 5", LENGTH);
+        fails(e + "(0 rho enc '') +/1 2", LENGTH);
+        fails(e + "{(0 rho enc '') : 5} 0", LENGTH);
+        fails(e + "exe e", VALUE);
+        shows(e + "x := 1 2 3 ; (0 rho enc x) := 5 ; x[e] := 6 ; x ; e + 1 ; rho e + e", "1 2 3||0");
     }
 
     /** What a function gives does not hang on the extents or FILLS of what was made ahead of it. */

@@ -94,6 +94,7 @@ public final class NameEdgesTest extends House {
         shows("n := 5 ; {f := {n} ; n := 6 ; f 0} 0", "6");
         shows("n := 7 ; " + many("{", 39) + "n + right" + many("} 1", 39), "8");
         shows("n := 7 ; " + many("{", 40) + "n" + many("} 1", 40), "7");
+        shows("n := 7 ; " + many("{", 40) + "n := 8 ; m := 2 ; n + m" + many("} 1", 40) + " ; n", "10|7");
         shows("{n := 7 ; " + many("{", 39) + "n" + many("} 1", 40), "7");
         fails("n := 7 ; " + many("{", 41) + "n" + many("} 1", 41), LIMIT);
     }
@@ -144,6 +145,9 @@ public final class NameEdgesTest extends House {
         fails("{f := {n} ; y := {n := 1 ; 2} 0 ; f 0} 0", VALUE);
         fails("f := {0 = right : n ; n := 5 ; self right - 1} ; f 1", VALUE);
         fails("{g := + ; 1} 0 ; 1 g 2", VALUE);
+        fails("y := {a := 1 ; b := 2 ; c := 3 ; 4} 0 ; {z := 5 ; b} 0", VALUE);
+        fails("y := {a := 1 ; b := 2 ; c := 3 ; 4} 0 ; {z := 5 ; c} 0", VALUE);
+        fails("y := {a := 1 ; b := + ; c := - ; 4} 0 ; {y := 5 ; z := 6 ; 1 c 2} 0", VALUE);
         shows("g := - ; {g := + ; 1} 0 ; 1 g 2", "1|_1");
     }
 
@@ -270,7 +274,7 @@ public final class NameEdgesTest extends House {
         shows("x := 5 ; (+ x) := 7 ; x ; (1 , x) := 8 ; x ; (1 same x) := , 9 ; rho x", "7|8|");
         shows("x := 4 5 6 ; (1 1 , x) := 9 8 7 6 5 ; x ; (first x) := enc 1 2 ; x ; (0 take x) := '' ; x", "7 6 5|(1 2) 6 5|(1 2) 6 5");
         shows("x := 4 5 6 ; (0 take x) := 9 ; x ; (2 2 rho x) := 2 2 rho 'abcd' ; x", "4 5 6|dbc");
-        shows("x := 1 2 3 ; y := 1 1 rho 5 ; (y same x) := 7 8 9 ; x", "7 8 9");
+        shows("x := 1 2 3 ; ((1 1 rho 5) same x) := 7 8 9 ; x", "7 8 9");
         // the WHOLES are 1, 2, 3, .. whatever ORIGIN
         House x = new House();
         x.h.set(0, 0);
@@ -338,7 +342,9 @@ public final class NameEdgesTest extends House {
         for (String text : texts) ends("x := 1 2 ; " + text, SYNTAX, 8 + 3);
         fails("{1 : := 1} 0", SYNTAX);
         fails("(:= 1)", SYNTAX);
-        // what stands ahead of the text of exe is no part of it
+        // what stands ahead of the text of exe is no part of it, nor is what run()'s text ends by
+        ends("x := exe '5' ; 1 + rank", SYNTAX, 1 + 1 + 1 + 1 + 2 + 2 + 1 + 1 + 2);
+        ends("x := exe '- 5' ; + .", SYNTAX, 1 + 1 + 1 + 1 + 4 + 3 + 3 + 1 + 1 + 2);
         fails("x := 1 ; (exe ':= 5') , x", SYNTAX);
         fails("x := 1 ; (exe '+ := 5') , x", SYNTAX);
         fails("x := 1 ; (exe '[1] := 5') , x", SYNTAX);
@@ -421,6 +427,10 @@ public final class NameEdgesTest extends House {
         due("by exe", x.run("exe 'd := + ; 1'"), LIMIT);
         due("in a CALL", x.run("{d := +/ ; d right} 1 2"), 0);
         due("a value instead", x.run("c := 5"), 0);
+        due("told", x.h.told(3), 5999);
+        due("a function where a value was", x.run("w := 5 ; " + many("1 ; ", 60) + "w := +"), 0);
+        due("told", x.h.told(3), 6000);
+        due("a value again", x.run("w := 5"), 0);
         due("told", x.h.told(3), 5999);
         due("forget", x.forget("b"), 2);
         due("told", x.h.told(3), 3000);

@@ -240,7 +240,7 @@ public final class OperatorEdgesTest extends House {
         shows("1 2 3 -.+ 10 20 30 ; 1 2 {left , right}.{left right} 3 4 ; rho (2 3 4 rho 1) +.* 4 5 6 rho 1 ; 1 2 and.= 1 2", "22|(1 3 2 4)|2 3 5 6|1");
         // "what g gave is what f gets; one of them BOXED"
         shows("(, 1) +., , 2 ; 1 2 ,., 3 4 ; 1 +.{left right} 2 ; 1 2 {left right}.{left right} 3 4", "(1 2)|(1 3 2 4)|(1 2)|((1 3) (2 4))");
-        shows("1 +.* 2 ; rho 1 +.* 2 ; rho (, 1) +.* , 2 ; 2 {1 % 0}.+ 3 ; (enc 1 2) +.* 3", "2|||5|(3 6)");
+        shows("1 +.* 2 ; rho 1 +.* 2 ; rho (, 1) +.* , 2 ; 2 {1 % 0}.+ 3 ; (enc 1 2) +.* 3 ; 3 +.* enc 1 2", "2|||5|(3 6)|(3 6)");
         shows("x := 2 3 rho iota 6 ; w := 3 2 rho iota 6 ; z := 7 7 rho 1 ; x +.* w", "[2 2]22 28 49 64");
     }
 

@@ -25,6 +25,7 @@ public final class StepEdgesTest extends House {
         openApplications();
         openExecuted();
         openTogether();
+        openNoMore();
         countedThenOpen();
         end();
     }
@@ -451,6 +452,18 @@ public final class StepEdgesTest extends House {
         shows(f + "f 7", "1");
         fails(f + "f 8", LIMIT);
         shows("{7 :: right ; 0 = right : self 5 ; self right - 1} 39", "0");
+    }
+
+    /** What an EVENT ended is open no more, in the next run either. */
+    private static void openNoMore() {
+        House x = new House();
+        for (String text : new String[] {"(5 6)[nope]", "rev[nope] 5", "x := 5 6 ; x[nope] := 1", "(nope take x) := 1", "(nope)", "{nope} 0",
+            "{nope}\" 1 2", "exe 'nope'", "exe ')'", "f := {nope} ; f 1", "+ pow 20000 1", "{self right} 0"}) {
+            for (int i = 0; i < 5; i++) x.run(text);
+        }
+        due("all 40", x.run(many("(", 40) + "1" + many(")", 40)), 0);
+        due("one more", x.run(many("(", 41) + "1" + many(")", 41)), LIMIT);
+        due("all 40 again", x.run(many("(", 40) + "1" + many(")", 40)), 0);
     }
 
     /** "(An application counts its STEPS, then that it is open.)" */

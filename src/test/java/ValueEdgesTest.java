@@ -227,6 +227,7 @@ public final class ValueEdgesTest extends House {
         shows("up (0 rho enc 1 2 3) (0 rho enc 1 2) (0 rho enc 'ab')", "2 3 1");
         shows("up (0 3 rho 1) (0 2 rho 'a') ''", "3 2 1");
         shows("down (0 3 rho 1) (0 2 rho 'a') ''", "1 2 3");
+        shows("x := (, 5) (, 5) (, 5) ; y := 9 8 7 ; up x ; down x ; x := '' '' (0 rho 'q') ; y := 7 ; up x ; down x", "1 2 3|1 2 3|1 2 3|1 2 3");
     }
 
     /** "ORIGIN is 0 or 1 (at first 1): AXES, and places along an axis, are numbered from it on." */
