@@ -12,6 +12,7 @@ public final class RoomTest {
         whatIsMeantStays();
         fullHouse();
         manyRuns();
+        fiveHundredCalls();
         House.end();
     }
 
@@ -271,5 +272,18 @@ public final class RoomTest {
             2, 29, "");
         due(x, "x;x match 'ab''c';({h pow 0 right}pow 100)x;tally y",
             0, 2936, "ab'c|1|ab'c|300|");
+    }
+
+    /** "An object is used for at most 512 calls": what one run took up is there for the next ones. */
+    private static void fiveHundredCalls() {
+        House x = new House();
+        for (int i = 0; i < 26; i++) {
+            due(x, "x:=1000 rho enc 0 0 rho 0;y:=+x;z:=+y;f:={+x};v:=f 0;({0::0;x , x}pow 9)0;tally v",
+                0, 31157, "0|1000|");
+        }
+        for (int i = 0; i < 10; i++) {
+            House.due("the same VIEW", x.view("v"), 1);
+            House.due("SIZE", x.h.about(2), 1000);
+        }
     }
 }
