@@ -1,11 +1,14 @@
-"""Random texts: the program against oracle.py. From the project's root:
+"""Random texts: the program against oracle.py, or against second.py. From the project's root:
     mkdir -p /tmp/fuzz && javac -d /tmp/fuzz src/main/java/ArrayHouse.java tools/Drive.java
-    python3 tools/fuzz.py SEED SESSIONS [g|b|s|B|C|L]   (sentences, balanced tokens, token soup, great values, CALLS,
-                                                         long loops with GUARDS)
+    python3 tools/fuzz.py SEED SESSIONS [MODE [second]]
+MODE: g sentences, b balanced tokens, s token soup, B great values, C CALLS, L long loops with GUARDS, v values of all
+shapes and changed texts, n values near the bounds; - for a mixture.
 """
 import sys,random,subprocess,os,time
 sys.path.insert(0,os.path.dirname(os.path.abspath(__file__)))
-from oracle import *
+import shaped
+if sys.argv[4:]==['second']: from second import *
+else: from oracle import *
 FN1="+ - * % | ! floor ceil not ? , rho tally depth first enc mix split enl rev tr uniq up down iota where fmt same".split()
 FN2="+ - * % ^ | ! min max and or gcd lcm = /= < <= > >= ? , rho rot tr take drop rep expand iota mem find pick match without union inter part penc enco deco same".split()
 class G:
@@ -209,6 +212,8 @@ def loops(r,g):
     return ' ; '.join(ini)+' ; '+r.choice(['z := ','',''])+r.choice(['({%s} pow %s) %s','{%s}" %s rho %s','({%s} rank 0) %s rho %s','%.0s(f pow %s) %s','0 {%s}~ pow %s %s','{%s}/ %s rho %s'])%('; '.join(parts),n if True else '',r.choice(['0','x','y','1 2','i']))+r.choice(['',' ; x ; y',' ; v'])
 def session(r,mode):
     g=G(r); texts=[]
+    if mode=='v': return shaped.shaped(r,TOK,[lambda r:g.stmt(2),lambda r:calls(r,g)])
+    if mode=='n': return shaped.bounded(r,TOK)
     ini=[i for i in INIT if r.random()<.45]; r.shuffle(ini)
     if r.random()<.8: ini=["x := 1","y := 2 3","z := 'ab'","w := 3 4","a := 2 2 rho 1 0","b := 3","f := +","g := ,"]+ini
     texts.append(' ; '.join(ini))
@@ -278,5 +283,5 @@ def main(seed,n,mode):
     print('seed',seed,'sessions',n,'bad',bad,'events',dict(sorted(evs.items())),'oracle %.1fs'%(t1-t0))
     return bad
 if __name__=='__main__':
-    seed=int(sys.argv[1]); n=int(sys.argv[2]); mode=sys.argv[3] if len(sys.argv)>3 else None
+    seed=int(sys.argv[1]); n=int(sys.argv[2]); mode=sys.argv[3] if len(sys.argv)>3 and sys.argv[3]!='-' else None
     main(seed,n,mode)

@@ -1162,7 +1162,7 @@ public final class ArrayHouse {
         private static final int SLOTS = HOUSE_NAMES + OPEN_LIMIT * CALL_NAMES;
         private static final int GUARD_WORDS = 3;
         /** So many words may lie about, besides some for each part of what is kept, till they are used again. */
-        private static final int SLACK = 256;
+        private static final int SLACK = 64;
         private static final int SLACK_EACH = 4;
 
         private final State state;

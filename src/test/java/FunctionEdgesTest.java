@@ -124,6 +124,9 @@ public final class FunctionEdgesTest extends House {
             "[2 3]1 2 8 3 4 9|[2 3]8 1 2 9 3 4|[3 2]1 2 3 4 8 9|[3 2]8 9 1 2 3 4");
         shows("rho (2 3 4 rho 1) ,[2] 2 4 rho 1 ; rho (2 3 4 rho 1) ,[1] 3 4 rho 1 ; rho (2 3 4 rho 1) ,[2] 2 5 4 rho 1", "2 4 4|3 3 4|2 8 4");
         shows("(1 2 2 rho iota 4) ,[2] 1 2 rho 8 9 ; (1 2 2 rho iota 4) ,[2] 1 1 2 rho 8 9", "[1 3 2]1 2 3 4 8 9|[1 3 2]1 2 3 4 8 9");
+        // an extent of 0 there, and of 1: 1 in all
+        shows("(2 0 rho 0) , 2 1 rho 5 6 ; (2 1 rho 5 6) , 2 0 rho 0 ; (2 1 0 rho 0) , 2 1 1 rho 5 6 ; (0 3 rho 0) ,[1] 7 8 9 ; 5 6 , 2 0 rho 0",
+            "[2 1]5 6|[2 1]5 6|[2 1 1]5 6|[1 3]7 8 9|[2 1]5 6");
         // "FILL: A's."
         empty("q := '' , 0 rho 0", "0", " ");
         empty("q := (0 rho 0) , ''", "0", "0");
@@ -222,6 +225,11 @@ public final class FunctionEdgesTest extends House {
         shows("mix (2 2 rho iota 4) (5 6) ; mix 9 (2 2 rho iota 4) ; mix (5 6 7) (2 1 rho 8 9)", "[2 2 2]1 2 3 4 5 6 0 0|[2 2 2]9 0 0 0 1 2 3 4|[2 2 3]5 6 7 0 0 0 8 0 0 9 0 0");
         shows("mix (3 1 rho 1 2 3) (1 2 rho 4 5) ; rho mix 2 3 rho enc 1 2 ; mix (enc 1 2) (enc 3 4)", "[2 3 2]1 0 2 0 3 0 4 5 0 0 0 0|2 3 2|(1 2) (3 4)");
         shows("rho mix (2 3 1 rho 1) (1 2 4 rho 1) ; rho mix (2 0 rho 5) 1 ; rho mix '' (1 2 3)", "2 2 3 4|2 2 1|2 3");
+        shows("mix (2 1 2 rho 1 2 3 4) (1 1 1 rho 5) ; mix (1 2 1 rho 1 2) 3 ; mix (2 3 0 rho 5) 'b'",
+            "[2 2 1 2]1 2 3 4 5 0 0 0|[2 1 2 1]1 2 3 0|[2 2 3 1]0 0 0 0 0 0 b          ");
+        shows("rho mix (enc 1 2) , iota 400 ; (mix (enc 1 2) , iota 400)[1 18;]", "401 2|[2 2]1 2 17 0");
+        fails("mix 1 1 1 rho enc 1 1 1 1 1 rho 5", LIMIT);
+        fails("mix 1 1 1 1 1 1 rho enc 1 1 1 1 1 1 rho 5", LIMIT);
         shows("(mix iota 500) match iota 500 ; mix 100 200 300 ; mix 'abc'", "1|100 200 300|abc");
         fails("x := 1 1 1 1 1 1 rho 1 ; mix x 1", LIMIT);
         fails("mix (1 999 rho 0) (, 1 2)", LIMIT);

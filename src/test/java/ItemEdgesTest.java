@@ -94,6 +94,12 @@ public final class ItemEdgesTest extends House {
         due("LINK stays", x.h.told(6), 282475249);
         due("in BOXES", x.run("? 5 (5 5)"), 0);
         due("LINK", x.h.told(6), 1144108930);
+        // "the first event ends it", in BOXES likewise
+        for (String text : new String[] {"? (5 'a') 5", "? ((5 0) 5) 5", "? ((5 'a') 5) 5", "? (enc (5 1r2) 5) 5"}) {
+            x = new House();
+            due(text, x.run(text), DOMAIN);
+            due(text + ": LINK went on once", x.h.told(6), 16807);
+        }
         // 2000000000 and more: LINK is above n
         x.h.set(1, 2147483646);
         due("LINK modulo n", x.run("? 2000000000 ; ? 100"), 0);
@@ -236,6 +242,7 @@ public final class ItemEdgesTest extends House {
     private static void divisors() {
         shows("12 gcd 18 ; 5 gcd 7 ; 0 gcd 0 ; 0 gcd 5 ; 5 gcd 0 ; _12 gcd 18 ; _12 gcd _18 ; 0 gcd _5 ; 2000000000 gcd 2000000000", "6|1|0|5|5|6|6|5|2000000000");
         shows("4 lcm 6 ; 0 lcm 0 ; 0 lcm 5 ; 5 lcm 0 ; _4 lcm 6 ; _4 lcm _6 ; 2000000000 lcm 1000000000 ; 2000000000 lcm 2000000000", "12|0|0|0|12|12|2000000000|2000000000");
+        shows("1 lcm 5 ; 5 lcm 1 ; _1 lcm 5 ; 5 lcm _1 ; 1 lcm 1 ; _1 lcm _1 ; 2 lcm 3 ; 0 lcm _1 ; _1 gcd 5 ; 1 gcd 0 ; 0 gcd _1", "5|5|5|5|1|1|6|0|1|1|1");
         for (String f : new String[] {"gcd", "lcm"}) {
             fails("1r2 " + f + " 1", DOMAIN);
             fails("1 " + f + " 1r2", DOMAIN);

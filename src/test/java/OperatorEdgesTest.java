@@ -173,6 +173,7 @@ public final class OperatorEdgesTest extends House {
         due("each anew", x.run("x := 0 ; {x + := 1 ; left + right}\\1 2 3 ; x"), 0);
         due("each anew", x.shown(), "1 3 6\n3\n");
         fails("+\\[1] 5", INDEX);
+        shows("+\\3 1 rho 1 2 3 ; +\\[1] 1 3 rho 1 2 3 ; +\\[2] 2 1 2 rho iota 4 ; {1 % 0}\\3 1 rho 1 2 3", "[3 1]1 2 3|[1 3]1 2 3|[2 1 2]1 2 3 4|[3 1]1 2 3");
         fails("+\\[2] 5 6", INDEX);
         fails("+\\['a'] 5", DOMAIN);
         fails("+\\[1 1] 5", LENGTH);
@@ -225,6 +226,7 @@ public final class OperatorEdgesTest extends House {
     private static void outer() {
         shows("1 2 +@ 10 20 30 ; 1 +@ 2 ; rho 1 +@ 2 ; rho 1 2 +@ 3 ; rho 3 +@ 1 2 ; rho (2 3 rho 1) +@ 4 5 rho 1 ; 1 2 ,@ 3 4", "[2 3]11 21 31 12 22 32|3||2|2|2 3 4 5|[2 2](1 3) (1 4) (2 3) (2 4)");
         empty("q := '' {1 % 0}@ 1 2", "0 2", "0");
+        shows("1 2 3 +@ 5 ; 1 2 3 +@ , 5 ; 5 +@ 1 2 3 ; (, 5) +@ 1 2 3 ; (2 1 rho 1 2) ,@ enc 3 4", "6 7 8|[3 1]6 7 8|6 7 8|[1 3]6 7 8|[2 1](1 3 4) (2 3 4)");
         empty("q := 'ab' {1 % 0}@ ''", "2 0", "0");
         empty("q := '' {1 % 0}@ 5", "0", "0");
         fails("(40 rho 1) +@ 26 rho 1", LIMIT);

@@ -255,6 +255,13 @@ public final class RoomTest {
             0, 24009, "0|");
         due(x, "({0::0;y:=+u;+'a'}pow 8)0;tally n53;n53 match n0;n53 match n1",
             0, 29154, "0|1000|0|1|");
+        // much that is little each time, in one PHRASE of each of the CALLS that are open at once
+        due(x, "m:=118 0 rho 0;35{0=left:e;(left - 1)self `112|{0::e;take/m}`e}e",
+            0, 39962, "[0 0 0 0 0 0]|");
+        due(x, "m:=26 0 rho 0;36{0=left:e;(left - 1)self `108|{0::e;take/m}`right}e",
+            0, 39663, "[0 0 0 0 0 0]|");
+        due(x, "36{0=left:e;(left - 1)self {e}`210|e[;;;;;] `}e",
+            0, 31119, "[0 0 0 0 0 0]|");
     }
 
     /** What a run leaves is there in the next one. */

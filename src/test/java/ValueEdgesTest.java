@@ -196,6 +196,10 @@ public final class ValueEdgesTest extends House {
         shows("(2 3 rho 1) match 3 2 rho 1 ; (1 2 3 rho 1) match 1 3 2 rho 1", "0|0");
         shows("(1 (2 3)) match 1 (2 3) ; (1 (2 3)) match 1 (2 4) ; (1 (2 3)) match 1 2 ; (enc 1 2) match 1 2", "1|0|0|0");
         shows("(1 (2 'a')) match 1 (2 1) ; (1 (2 (3 4))) match 1 (2 (3 4))", "0|1");
+        // NUMBERS and SIGNS that have one of two numbers in common
+        shows("1r2 match 1r3 ; 1 match 1r2 ; 2r3 match 4r3 ; 'a' match 97 ; 97 match 'a' ; ' ' match 32 ; 0 match ' '", "0|0|0|0|0|0|0");
+        shows("uniq 1r2 1r3 1r2 1 ; uniq 'a' 97 'a' 98 ; 97 mem 'ab' ; 'a' mem 97 98 ; 'ab' iota 97 98 'b' ; 1r2 1r3 iota 1r3", "1r2 1r3 1|a 97 98|0|0|3 3 2|2");
+        shows("'ab' without 97 ; 'ab' inter 97 'b' ; 1r2 union 1r3 ; 97 find 'a' ; (enc 1 1r2) match enc 1 1r3 ; (enc 'ab') match enc 97 98", "ab|b|1r2 1r3|0|0|0");
         // "and, if both are EMPTY, ALIKE FILLS"
         shows("'' match 0 rho 'x' ; '' match 0 rho 1 ; (0 rho 1) match 0 rho 2", "1|0|1");
         shows("(0 2 rho 1) match 0 3 rho 1 ; (0 2 rho 1) match 2 0 rho 1 ; (0 2 rho 1) match 0 2 rho 'a'", "0|0|0");
@@ -211,6 +215,8 @@ public final class ValueEdgesTest extends House {
         shows("up '~ a!' ; down '~ a!'", "2 4 3 1|1 3 4 2");
         shows("up (, 1) 'a' 2000000000 ; down 2000000000 ' ' (, _5)", "3 2 1|3 2 1");
         shows("up 5 5 5 ; down 5 5 5 ; up (1 2) (1 2) ; down (1 2) (1 2)", "1 2 3|1 2 3|1 2|1 2");
+        // the same value in several BOXES
+        shows("x := 1 2 ; up x x 1 x ; down x x 1 x ; up 3 rho enc x ; down 3 rho enc x ; up x (1 3) x (1 1) x", "3 1 2 4|1 2 4 3|1 2 3|1 2 3|4 1 3 5 2");
     }
 
     /** "then BOXES: by RANK, then by the extents from the first on, then by the items (EMPTY ones: by FILLS)". */
